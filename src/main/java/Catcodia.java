@@ -72,7 +72,7 @@ public final class Catcodia {
     // ---- what the run does next
 
     private static final int NOTHING = 0, LOOK_AT_PAGE = 1, RUN_OUTPUT = 2, MAKE_BOX = 3, MAKE_LEADERS = 4, FINISH = 5,
-        TYPESET = 6, ASSIGN = 7, SIGN = 8, BEGIN_GROUP = 9, END_GROUP = 10;
+        TYPESET = 6, ASSIGN = 7, SIGN = 8, BEGIN_GROUP = 9, END_GROUP = 10, END_DOCUMENT = 11;
 
     // ---- parts of an item; the first four are those that a caller may ask for
 
@@ -279,12 +279,6 @@ public final class Catcodia {
             steps++;
         }
 
-        void forget(int variable) {
-            if (variable < 0 || variable >= value.length) return;
-            value[variable] = 0;
-            level[variable] = 0;
-        }
-
         /** A level of 0 tells that the value holds for all groups, so those that were saved are not given back. */
         void set(int variable, int x, boolean global) {
             if (variable < 0 || variable >= value.length) return;
@@ -410,7 +404,8 @@ public final class Catcodia {
             nameAt[names] = written + size;
             chain[id] = head[hash];
             head[hash] = id;
-            state.forget(NAMES + id);
+            state.value[NAMES + id] = 0;
+            state.level[NAMES + id] = 0;
             return id;
         }
 
@@ -564,9 +559,11 @@ public final class Catcodia {
         }
 
         private boolean sameList(int a, int b) {
-            int size = listSize(a);
-            if (size != listSize(b)) return false;
-            for (int i = 0; i < size; i++) if (pool.get(listAt(a) + i) != pool.get(listAt(b) + i)) return false;
+            int size = lists.get(2 * a + 1);
+            if (size != lists.get(2 * b + 1)) return false;
+            for (int i = 0; i < size; i++) {
+                if (pool.get(lists.get(2 * a) + i) != pool.get(lists.get(2 * b) + i)) return false;
+            }
             return true;
         }
 
@@ -699,7 +696,15 @@ public final class Catcodia {
             if (m >> 16 == IS_MACRO) {
                 int pattern = tokens.pattern(m);
                 int slot = passAhead(pattern);
-                for (int k = 1; k <= 9 && slot >= 0; k++) slot = readParameter(pattern, slot, k);
+                for (int k = 1; k <= 9 && slot >= 0; k++) {
+                    int end = tailEnd(pattern, slot);
+                    gotFrom[k] = got.n;
+                    if (end == slot + 1) readUndelimited();
+                    else readUpTo(tokens.listAt(pattern) + slot + 1, end - slot - 1);
+                    gotTo[k] = got.n;
+                    if (end > slot + 1) trim(k);
+                    slot = end < tokens.listSize(pattern) ? end : -1;
+                }
                 putBody(tokens.body(m));
             } else {
                 int p = m & 0xFFFF;
@@ -710,7 +715,11 @@ public final class Catcodia {
                     case C_THE: tokens.pushList(tell()); break;
                     case C_FIRSTMARK: tokens.pushList(state.firstMark); break;
                     case C_BOTMARK: tokens.pushList(state.lastMark); break;
-                    case C_ELSE: case C_FI: endCondition(p); break;
+                    case C_ELSE:
+                        endCondition(true);
+                        passOver(false);
+                        break;
+                    case C_FI: endCondition(false); break;
                     default: condition(p);
                 }
             }
@@ -734,21 +743,28 @@ public final class Catcodia {
             return -1;
         }
 
-        /** Reads what parameter k gets, which is at slot in the pattern; where the next one is, -1 without one. */
-        private int readParameter(int pattern, int slot, int k) {
+        /** Where the TAIL of the parameter at slot ends in the pattern. */
+        private int tailEnd(int pattern, int slot) {
             int from = tokens.listAt(pattern);
             int size = tokens.listSize(pattern);
             int end = slot + 1;
             while (end < size && (tokens.pool.get(from + end) & SLOT) == 0) end++;
-            gotFrom[k] = got.n;
-            if (end == slot + 1) readUndelimited();
-            else readUpTo(from + slot + 1, end - slot - 1);
-            gotTo[k] = got.n;
-            if (end > slot + 1 && isOneGroup(gotFrom[k], gotTo[k])) {
+            return end;
+        }
+
+        /** Takes an OPEN and its CLOSE off what parameter k got, if they are its first and its last token. */
+        private void trim(int k) {
+            int depth = 0;
+            for (int i = gotFrom[k]; i < gotTo[k]; i++) {
+                int kind = tokens.kind(got.get(i));
+                if (kind == OPEN) depth++;
+                if (kind == CLOSE) depth--;
+                if (depth > 0) continue;
+                if (i == gotFrom[k] || i < gotTo[k] - 1) return;
                 gotFrom[k]++;
                 gotTo[k]--;
+                return;
             }
-            return end < size ? end : -1;
         }
 
         private void readUndelimited() {
@@ -805,18 +821,6 @@ public final class Catcodia {
         private int begun(int first, int tail, int size) {
             for (int n = size - 1; n > 0; n--) if (endsWith(first, tail, n)) return n;
             return 0;
-        }
-
-        /** Whether it begins with an OPEN whose CLOSE is its last token. */
-        private boolean isOneGroup(int from, int to) {
-            int depth = 0;
-            for (int i = from; i < to; i++) {
-                int kind = tokens.kind(got.get(i));
-                if (kind == OPEN) depth++;
-                if (kind == CLOSE) depth--;
-                if (depth == 0) return i > from && i == to - 1;
-            }
-            return false;
         }
 
         private void putBody(int body) {
@@ -938,20 +942,18 @@ public final class Catcodia {
             return code == '<' ? a < b : code == '>' ? a > b : a == b;
         }
 
-        private void endCondition(int p) {
+        private void endCondition(boolean byElse) {
             if (conditions.n == 0) state.fail(11);
-            if (p == C_ELSE) {
-                if (conditions.get(conditions.n - 1) != 0) state.fail(11);
-                passOver(false);
-            }
-            conditions.take();
+            if (conditions.take() != 0 && byElse) state.fail(11);
         }
 
         /** Passes over all up to the \fi, or the \else if that may end it; whether this did. */
         private boolean passOver(boolean upToElse) {
             int inner = 0;
             for (int i = 0; i < FAR; i++) {
-                int p = tokens.command(tokens.take());
+                int t = tokens.next();
+                if (t == END || t == FENCE) state.fail(t == END ? 2 : 9);
+                int p = tokens.command(t);
                 if (p == C_IFNUM || p == C_IFX || p == C_IFVOID) inner++;
                 if (p == C_ELSE && inner == 0 && upToElse) return true;
                 if (p == C_FI && inner == 0) return false;
@@ -1102,8 +1104,15 @@ public final class Catcodia {
                 int t = tokens.take();
                 int m = tokens.meaning(t);
                 if (!tokens.held && tokens.expandable(m)) {
-                    if (m == (IS_COMMAND << 16 | C_THE)) addTold(first);
-                    else expand(m);
+                    if (m != (IS_COMMAND << 16 | C_THE)) {
+                        expand(m);
+                        continue;
+                    }
+                    enter();
+                    state.step();
+                    int list = tell();
+                    within--;
+                    addList(list, first);
                     continue;
                 }
                 int kind = tokens.kind(t);
@@ -1115,12 +1124,8 @@ public final class Catcodia {
             return 0;
         }
 
-        /** The tokens that \the tells here are not expanded any more. */
-        private void addTold(int first) {
-            enter();
-            state.step();
-            int list = tell();
-            within--;
+        /** The tokens that \the tells in a list are not expanded any more. */
+        private void addList(int list, int first) {
             int from = tokens.listAt(list);
             int size = tokens.listSize(list);
             for (int i = 0; i < size; i++) tokens.addLimited(tokens.pool.get(from + i), first);
@@ -1133,6 +1138,7 @@ public final class Catcodia {
         static final int BLANK_GLUE = 128, NO_BREAK = 129, FILL_GLUE = 130, LINE_PENALTY = 131, A_HYPHEN = 132,
             MADE = 133;
         private static final int BLANK_MEASURE = 1, FILL_MEASURE = 2;
+        private static final int[] BLANK_SIZES = {6, 3, 0, 2, 0}, FILL_SIZES = {0, 1, 1, 0, 0};
 
         private final State state;
         private int[] part = new int[512 * PARTS];
@@ -1171,9 +1177,9 @@ public final class Catcodia {
             count = MADE;
             list.n = 0;
             glues.n = 0;
-            measure(0, 0, 0, 0, 0);
-            measure(6, 3, 0, 2, 0);
-            measure(0, 1, 1, 0, 0);
+            rigid(0);
+            measure(BLANK_SIZES);
+            measure(FILL_SIZES);
         }
 
         // ---- parts
@@ -1187,13 +1193,12 @@ public final class Catcodia {
         }
 
         boolean isBox(int id) {
-            int kind = kind(id);
-            return kind == HBOX || kind == VBOX;
+            return id > 0 && id < count && (part[id * PARTS] == HBOX || part[id * PARTS] == VBOX);
         }
 
+        /** Whether it is a box or rule. */
         boolean isSolid(int id) {
-            int kind = kind(id);
-            return kind == HBOX || kind == VBOX || kind == RULE;
+            return id > 0 && id < count && part[id * PARTS] >= HBOX && part[id * PARTS] <= RULE;
         }
 
         /** How many items a box has in all; 0 for no box. */
@@ -1203,12 +1208,22 @@ public final class Catcodia {
 
         // ---- glue
 
-        int measure(int natural, int stretch, int stretchOrder, int shrink, int shrinkOrder) {
-            glues.add(natural);
-            glues.add(stretch);
-            glues.add(stretchOrder);
-            glues.add(shrink);
-            glues.add(shrinkOrder);
+        /** Keeps a natural part, a stretch and its order, a shrink and its order. */
+        int measure(int[] m) {
+            for (int k = 0; k < 5; k++) glues.add(k < m.length ? m[k] : 0);
+            return glues.n / 5 - 1;
+        }
+
+        /** Keeps what has a natural part alone. */
+        int rigid(int natural) {
+            for (int k = 0; k < 5; k++) glues.add(k == 0 ? natural : 0);
+            return glues.n / 5 - 1;
+        }
+
+        /** A glue with another natural part. */
+        int changed(int glue, int natural) {
+            int from = 5 * glue;
+            for (int k = 0; k < 5; k++) glues.add(k == 0 ? natural : glues.get(from + k));
             return glues.n / 5 - 1;
         }
 
@@ -1233,8 +1248,8 @@ public final class Catcodia {
             return make(kind, number);
         }
 
-        int glue(int[] m, int box) {
-            int id = make(GLUE, measure(m[0], m[1], m[2], m[3], m[4]));
+        int glue(int measure, int box) {
+            int id = make(GLUE, measure);
             part[id * PARTS + FIRST] = box;
             return id;
         }
@@ -1247,11 +1262,9 @@ public final class Catcodia {
             return id;
         }
 
-        /** The glue ahead of a box that comes behind a box. */
-        int baseGlue(int above, int below, int base) {
-            int room = base - part(above, DEPTH) - part(below, HEIGHT);
-            int id = make(GLUE, measure(room > 0 ? room : 0, 0, 0, 0, 0));
-            return id;
+        /** The size of the glue between two boxes. */
+        int room(int above, int below) {
+            return Math.max(0, state.value[BASE] - part(above, DEPTH) - part(below, HEIGHT));
         }
 
         int insertion(int first, int size) {
@@ -1309,10 +1322,9 @@ public final class Catcodia {
             return -1;
         }
 
-        int badness(long[] of, long excess) {
-            if (excess == 0) return 0;
-            int order = order(of, excess);
-            if (order > 0) return 0;
+        /** The badness by the order of glue that is used. */
+        int badness(long[] of, long excess, int order) {
+            if (excess == 0 || order > 0) return 0;
             long size = excess > 0 ? excess : -excess;
             long total = order < 0 ? 0 : of[excess > 0 ? 1 : 5];
             if (excess < 0 && size > total) return LARGEST;
@@ -1356,18 +1368,14 @@ public final class Catcodia {
             part[id * PARTS + FIRST] = first;
             part[id * PARTS + SIZE] = size;
             part[id * PARTS + WHOLE] = whole;
-            setGlue(id, wanted - natural);
-            return id;
-        }
-
-        private void setGlue(int box, long excess) {
+            long excess = wanted - natural;
             int order = order(sums, excess);
             long total = order < 0 ? 0 : sums[(excess > 0 ? 1 : 5) + order];
-            int at = box * PARTS;
-            part[at + NUMBER] = badness(sums, excess);
-            part[at + ORDER] = order;
-            part[at + TOTAL] = (int) total;
-            part[at + EXCESS] = (int) (excess < 0 && order == 0 ? Math.max(excess, -total) : excess);
+            part[id * PARTS + NUMBER] = badness(sums, excess, order);
+            part[id * PARTS + ORDER] = order;
+            part[id * PARTS + TOTAL] = (int) total;
+            part[id * PARTS + EXCESS] = (int) (excess < 0 && order == 0 ? Math.max(excess, -total) : excess);
+            return id;
         }
 
         /** The size of the glue at a place of a box, as it was set. */
@@ -1507,7 +1515,7 @@ public final class Catcodia {
                 return;
             }
             int above = modes[levels] == INNER ? boxAbove() : 0;
-            if (above != 0) append(items.baseGlue(above, id, state.value[BASE]));
+            if (above != 0) append(items.glue(items.rigid(items.room(above, id)), 0));
             append(id);
         }
 
@@ -1784,7 +1792,7 @@ public final class Catcodia {
         private void weighLine(int p, int q, boolean hyphen) {
             long natural = sums[0] + (hyphen ? items.part('-', WIDTH) : 0);
             long excess = state.value[HSIZE] - natural;
-            int bad = Math.min(10000, items.badness(sums, excess));
+            int bad = Math.min(10000, items.badness(sums, excess, items.order(sums, excess)));
             int fit = excess < 0 && bad > 12 ? 0 : excess <= 0 || bad < 13 ? 1 : bad < 100 ? 2 : 3;
             long both = (long) state.value[LINEPEN] + bad;
             long sum = both * both;
@@ -2036,7 +2044,7 @@ public final class Catcodia {
                 int above = boxAbove();
                 if (above != 0) {
                     waiting.add(id);
-                    waiting.add(items.baseGlue(above, id, state.value[BASE]));
+                    waiting.add(items.glue(items.rigid(items.room(above, id)), 0));
                     return;
                 }
             }
@@ -2085,7 +2093,8 @@ public final class Catcodia {
         private int badness() {
             int last = list.get(list.n - 1);
             int depth = list.n > 0 && items.isSolid(last) ? Math.max(0, items.part(last, DEPTH)) : 0;
-            return items.badness(sums, state.value[VSIZE] - takenSize - (sums[0] - depth));
+            long excess = state.value[VSIZE] - takenSize - (sums[0] - depth);
+            return items.badness(sums, excess, items.order(sums, excess));
         }
 
         // ---- insertions
@@ -2349,7 +2358,7 @@ public final class Catcodia {
         /** Whether the run is not that of the document. */
         boolean stale = true;
         private boolean over;
-        /** What has to come next: a BOX, the glue of \leaders, or, if it is 0, any token. */
+        /** What has to come next: a BOX, an assignment, the glue of \leaders, or, if it is 0, any token. */
         private int awaited;
         /** What becomes of the BOX that comes, and its number and \global. */
         private int target;
@@ -2405,6 +2414,7 @@ public final class Catcodia {
                         case SIGN: typesetSign(); break;
                         case BEGIN_GROUP: openGroup(PLAIN_GROUP); break;
                         case END_GROUP: endGroup(token == FENCE); break;
+                        case END_DOCUMENT: endDocument(); break;
                         default:
                     }
                 }
@@ -2418,6 +2428,7 @@ public final class Catcodia {
             if (page.isBusy()) return LOOK_AT_PAGE;
             if (page.ripe) return RUN_OUTPUT;
             if (awaited == MAKE_BOX) return boxJob();
+            if (awaited == ASSIGN) return assignmentJob();
             if (awaited == MAKE_LEADERS) return MAKE_LEADERS;
             if (ending > 0 && !page.open) return FINISH;
             if (resumed >= 0 && !page.open) {
@@ -2426,11 +2437,7 @@ public final class Catcodia {
                 return TYPESET;
             }
             token = expander.next();
-            if (token == END) {
-                command = C_END;
-                return TYPESET;
-            }
-            return tokenJob(tokens.held);
+            return token == END ? END_DOCUMENT : tokenJob(tokens.held);
         }
 
         private int tokenJob(boolean held) {
@@ -2445,7 +2452,12 @@ public final class Catcodia {
             }
             command = m & 0xFFFF;
             global = false;
-            if (command == C_GLOBAL) readGlobal();
+            if (command == C_GLOBAL) {
+                global = true;
+                awaited = ASSIGN;
+                return NOTHING;
+            }
+            if (command == C_END) return END_DOCUMENT;
             if (command >= C_DEF) return ASSIGN;
             if (command >= C_HBOX) {
                 target = ALONE;
@@ -2454,11 +2466,13 @@ public final class Catcodia {
             return TYPESET;
         }
 
-        /** Reads what stands behind \global. */
-        private void readGlobal() {
-            global = true;
-            for (int i = 0; i < FAR && command == C_GLOBAL; i++) command = tokens.command(expander.needed());
+        /** Reads what stands behind \global, which may be one more. */
+        private int assignmentJob() {
+            command = tokens.command(expander.needed());
+            if (command == C_GLOBAL) return NOTHING;
             if (command < C_DEF) state.fail(6);
+            awaited = NOTHING;
+            return ASSIGN;
         }
 
         private int boxJob() {
@@ -2587,7 +2601,7 @@ public final class Catcodia {
             int p = tokens.command(expander.needed());
             if (p != (nest.isUpright() ? C_VSKIP : C_HSKIP)) state.fail(7);
             expander.amount(true);
-            nest.append(items.glue(expander.measure, box));
+            nest.append(items.glue(items.measure(expander.measure), box));
         }
 
         // ---- what is no assignment
@@ -2609,31 +2623,24 @@ public final class Catcodia {
             nest.append(items.solid(HBOX, state.value[INDENT], 0, 0));
         }
 
-        /** Ends a paragraph ahead of a command; whether this one has to wait for the page. */
-        private boolean leavesParagraph(int p) {
-            if (nest.mode() == ROW) state.fail(7);
-            if (nest.mode() != PARAGRAPH) return false;
-            lines.end();
-            if (nest.mode() != VERTICAL) return false;
-            resumed = p;
-            return true;
-        }
-
         private void typeset(int p) {
+            if ((p == C_VSKIP || p == C_ALIGN) && nest.mode() == ROW) state.fail(7);
+            if ((p == C_VSKIP || p == C_ALIGN) && nest.mode() == PARAGRAPH) {
+                lines.end();
+                if (nest.mode() == VERTICAL) {
+                    // the page is looked at first, so that \output has been run when more is read
+                    resumed = p;
+                    return;
+                }
+            }
             switch (p) {
                 case C_ENDCSNAME: case C_CR: state.fail(11); break;
                 case C_WD: case C_HT: case C_DP: state.fail(1); break;
                 case C_PAR: if (nest.mode() == PARAGRAPH) lines.end(); break;
-                case C_END: endDocument(); break;
-                case C_HSKIP:
-                    beginParagraph();
+                case C_HSKIP: case C_VSKIP:
+                    if (p == C_HSKIP) beginParagraph();
                     expander.amount(true);
-                    nest.append(items.glue(expander.measure, 0));
-                    break;
-                case C_VSKIP:
-                    if (leavesParagraph(p)) break;
-                    expander.amount(true);
-                    nest.append(items.glue(expander.measure, 0));
+                    nest.append(items.glue(items.measure(expander.measure), 0));
                     break;
                 case C_KERN: nest.append(items.simple(KERN, expander.number())); break;
                 case C_PENALTY:
@@ -2656,7 +2663,6 @@ public final class Catcodia {
                 case C_POUR: pour(expander.index()); break;
                 case C_LEADERS: await(FOR_LEADERS, 0); break;
                 case C_ALIGN:
-                    if (leavesParagraph(p)) break;
                     expander.brace();
                     align.begin(tokens.readList());
                     goOnAligning();
@@ -2695,7 +2701,11 @@ public final class Catcodia {
 
         private void assign(int p) {
             switch (p) {
-                case C_DEF: case C_EDEF: define(p == C_EDEF); break;
+                case C_DEF: case C_EDEF:
+                    int variable = readVariable();
+                    int pattern = tokens.readPattern();
+                    define(variable, pattern, p == C_DEF ? tokens.readList() : expander.expandedList());
+                    break;
                 case C_LET: let(); break;
                 case C_CLASS: assignClass(); break;
                 case C_COUNT: case C_LEN: case C_SKIP: case C_TOKS: case C_SETBOX: assignRegister(p); break;
@@ -2721,12 +2731,7 @@ public final class Catcodia {
             return variable;
         }
 
-        private void define(boolean expanded) {
-            int variable = readVariable();
-            int pattern = tokens.readPattern();
-            int slots = tokens.slots;
-            int body = expanded ? expander.expandedList() : tokens.readList();
-            tokens.slots = slots;
+        private void define(int variable, int pattern, int body) {
             tokens.shapeBody(body);
             state.set(variable, tokens.addMacro(pattern, body), global);
         }
@@ -2755,8 +2760,7 @@ public final class Catcodia {
                 state.set(LENS + n, expander.number(), global);
             } else if (p == C_SKIP) {
                 expander.amount(true);
-                int[] m = expander.measure;
-                state.set(SKIPS + n, items.measure(m[0], m[1], m[2], m[3], m[4]), global);
+                state.set(SKIPS + n, items.measure(expander.measure), global);
             } else if (p == C_TOKS) {
                 expander.brace();
                 state.set(LISTS + n, tokens.readList(), global);
@@ -2777,12 +2781,7 @@ public final class Catcodia {
             if (p == C_DIVIDE && by == 0) state.fail(12);
             x = p == C_ADVANCE ? x + by : p == C_MULTIPLY ? x * by : by != 0 ? x / by : 0;
             if (x < -LARGEST || x > LARGEST) state.fail(5);
-            int result = (int) x;
-            if (r == C_SKIP) {
-                result = items.measure(result, items.gluePart(old, 1), items.gluePart(old, 2), items.gluePart(old, 3),
-                    items.gluePart(old, 4));
-            }
-            state.set(variable, result, global);
+            state.set(variable, r == C_SKIP ? items.changed(old, (int) x) : (int) x, global);
         }
 
         // ---- what a caller asks
