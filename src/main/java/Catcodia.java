@@ -1972,7 +1972,7 @@ public final class Catcodia {
         private final Tokens tokens;
         private final Items items;
         /** What was looked at of this page, and what stays to be looked at, the next one last. */
-        private final Row list = new Row(64);
+        final Row list = new Row(64);
         private final Row waiting = new Row(64);
         /** What comes to the list, the next one first. */
         final Row arrived = new Row(64);
@@ -2125,12 +2125,8 @@ public final class Catcodia {
             return solid || left.n > 0 || leftBefore;
         }
 
-        void breakAtEnd() {
-            breakAt(list.n, 0);
-        }
-
         /** Breaks the page ahead of a place; what broke it, if it is no glue or penalty there, is looked at anew. */
-        private void breakAt(int place, int again) {
+        void breakAt(int place, int again) {
             if (breaks >= MOST_PAGES) state.fail(10);
             breaks++;
             int first = items.list.n;
@@ -2495,7 +2491,7 @@ public final class Catcodia {
         private void finish() {
             if (ending == 1 && (state.groups > 0 || expander.conditions.n > 0)) state.fail(9);
             ending = 2;
-            if (page.isUnfinished()) page.breakAtEnd();
+            if (page.isUnfinished()) page.breakAt(page.list.n, 0);
             else over = true;
         }
 
