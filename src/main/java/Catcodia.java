@@ -964,10 +964,6 @@ public final class Catcodia {
 
         // ---- numbers and glue
 
-        int number() {
-            return amount(false);
-        }
-
         /** A GLUE, whose parts are then told by measure, or a NUMBER. */
         int amount(boolean glue) {
             enter();
@@ -2561,7 +2557,7 @@ public final class Catcodia {
                 return;
             }
             int spec = expander.keyword("to") ? TO : expander.keyword("spread") ? SPREAD : NATURAL;
-            int size = spec == NATURAL ? 0 : expander.number();
+            int size = spec == NATURAL ? 0 : expander.amount(false);
             expander.brace();
             openGroup(BOX_GROUP);
             int at = (state.groups - 1) * G_PARTS;
@@ -2638,9 +2634,9 @@ public final class Catcodia {
                     expander.amount(true);
                     nest.append(items.glue(items.measure(expander.measure), 0));
                     break;
-                case C_KERN: nest.append(items.simple(KERN, expander.number())); break;
+                case C_KERN: nest.append(items.simple(KERN, expander.amount(false))); break;
                 case C_PENALTY:
-                    nest.append(items.simple(PENALTY, Math.max(-10000, Math.min(10000, expander.number()))));
+                    nest.append(items.simple(PENALTY, Math.max(-10000, Math.min(10000, expander.amount(false)))));
                     break;
                 case C_RULE: typesetRule(); break;
                 case C_MARK:
@@ -2654,7 +2650,7 @@ public final class Catcodia {
                 case C_INSERT: beginInsertion(); break;
                 case C_RAISE:
                     if (nest.isUpright()) state.fail(7);
-                    await(RAISED, expander.number());
+                    await(RAISED, expander.amount(false));
                     break;
                 case C_POUR: pour(expander.index()); break;
                 case C_LEADERS: await(FOR_LEADERS, 0); break;
@@ -2669,9 +2665,9 @@ public final class Catcodia {
         }
 
         private void typesetRule() {
-            int width = expander.number();
-            int height = expander.number();
-            int depth = expander.number();
+            int width = expander.amount(false);
+            int height = expander.amount(false);
+            int depth = expander.amount(false);
             nest.append(items.solid(RULE, width, height, depth));
         }
 
@@ -2696,28 +2692,31 @@ public final class Catcodia {
         // ---- assignments
 
         private void assign(int p) {
+            int n = 0;
+            if (p <= C_LET) n = readVariable();
+            if (p == C_CLASS) n = expander.codeIndex();
+            if (p >= C_COUNT && p <= C_TOKS || p == C_SETBOX) n = expander.index();
+            if (p >= C_CLASS && p <= C_OUTPUT || p == C_SETBOX || p >= C_HSIZE) expander.equalsSign();
+            if (p == C_TOKS || p == C_OUTPUT || p == C_PATTERNS) expander.brace();
             switch (p) {
                 case C_DEF: case C_EDEF:
-                    int variable = readVariable();
                     int pattern = tokens.readPattern();
-                    define(variable, pattern, p == C_DEF ? tokens.readList() : expander.expandedList());
+                    define(n, pattern, p == C_DEF ? tokens.readList() : expander.expandedList());
                     break;
-                case C_LET: let(); break;
-                case C_CLASS: assignClass(); break;
-                case C_COUNT: case C_LEN: case C_SKIP: case C_TOKS: case C_SETBOX: assignRegister(p); break;
-                case C_OUTPUT:
-                    expander.equalsSign();
-                    expander.brace();
-                    state.set(OUTPUT, tokens.readList(), global);
+                case C_LET: let(n); break;
+                case C_CLASS: setClass(n, expander.amount(false)); break;
+                case C_COUNT: state.set(COUNTS + n, expander.amount(false), global); break;
+                case C_LEN: state.set(LENS + n, expander.amount(false), global); break;
+                case C_SKIP:
+                    expander.amount(true);
+                    state.set(SKIPS + n, items.measure(expander.measure), global);
                     break;
+                case C_TOKS: state.set(LISTS + n, tokens.readList(), global); break;
+                case C_OUTPUT: state.set(OUTPUT, tokens.readList(), global); break;
                 case C_ADVANCE: case C_MULTIPLY: case C_DIVIDE: calculate(p); break;
-                case C_PATTERNS:
-                    expander.brace();
-                    hyphens.add(tokens.readList());
-                    break;
-                default:
-                    expander.equalsSign();
-                    state.set(PARAMETERS + p - C_HSIZE, expander.number(), global);
+                case C_SETBOX: await(TO_REGISTER, n); break;
+                case C_PATTERNS: hyphens.add(tokens.readList()); break;
+                default: state.set(PARAMETERS + p - C_HSIZE, expander.amount(false), global);
             }
         }
 
@@ -2732,37 +2731,15 @@ public final class Catcodia {
             state.set(variable, tokens.addMacro(pattern, body), global);
         }
 
-        private void let() {
-            int variable = readVariable();
+        private void let(int variable) {
             int t = tokens.takeSolid();
             if ((t & NAME) == 0 && (t & 127) == '=') t = tokens.takeSolid();
             state.set(variable, tokens.meaning(t), global);
         }
 
-        private void assignClass() {
-            int code = expander.codeIndex();
-            expander.equalsSign();
-            int kind = expander.number();
+        private void setClass(int code, int kind) {
             if (kind < 0 || kind > TAB) state.fail(6);
             state.set(code, kind, global);
-        }
-
-        private void assignRegister(int p) {
-            int n = expander.index();
-            expander.equalsSign();
-            if (p == C_COUNT) {
-                state.set(COUNTS + n, expander.number(), global);
-            } else if (p == C_LEN) {
-                state.set(LENS + n, expander.number(), global);
-            } else if (p == C_SKIP) {
-                expander.amount(true);
-                state.set(SKIPS + n, items.measure(expander.measure), global);
-            } else if (p == C_TOKS) {
-                expander.brace();
-                state.set(LISTS + n, tokens.readList(), global);
-            } else {
-                await(TO_REGISTER, n);
-            }
         }
 
         private void calculate(int p) {
