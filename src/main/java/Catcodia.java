@@ -2044,6 +2044,11 @@ public final class Catcodia {
                     return;
                 }
             }
+            if (items.kind(id) == INSERTION) {
+                takeIn(id);
+                previous = INSERTION;
+                return;
+            }
             int place = look(id);
             if (place >= 0) breakAt(place, place == list.n ? 0 : id);
         }
@@ -2059,11 +2064,6 @@ public final class Catcodia {
         /** Looks at an item; where the page has to be broken by it, -1 if it has not. */
         private int look(int id) {
             int kind = items.kind(id);
-            if (kind == INSERTION) {
-                takeIn(id);
-                previous = kind;
-                return -1;
-            }
             if (!solid && (kind == GLUE || kind == KERN || kind == PENALTY)) return -1;
             int penalty = kind == PENALTY ? items.part(id, NUMBER) : 0;
             boolean can = kind == PENALTY && penalty < 10000 || kind == GLUE
@@ -2647,7 +2647,12 @@ public final class Catcodia {
                     if (nest.isUpright()) state.fail(7);
                     nest.append(Items.A_HYPHEN);
                     break;
-                case C_INSERT: beginInsertion(); break;
+                case C_INSERT:
+                    if (nest.mode() != VERTICAL && nest.mode() != PARAGRAPH) state.fail(7);
+                    expander.brace();
+                    openGroup(INSERT_GROUP);
+                    nest.open(INNER);
+                    break;
                 case C_RAISE:
                     if (nest.isUpright()) state.fail(7);
                     await(RAISED, expander.amount(false));
@@ -2669,13 +2674,6 @@ public final class Catcodia {
             int height = expander.amount(false);
             int depth = expander.amount(false);
             nest.append(items.solid(RULE, width, height, depth));
-        }
-
-        private void beginInsertion() {
-            if (nest.mode() != VERTICAL && nest.mode() != PARAGRAPH) state.fail(7);
-            expander.brace();
-            openGroup(INSERT_GROUP);
-            nest.open(INNER);
         }
 
         private void pour(int n) {
