@@ -168,7 +168,7 @@ public final class Catcodia {
 
     public int paragraphs() {
         engine.run(document, length);
-        return engine.lines.told;
+        return engine.lines.lineCounts.n;
     }
 
     public int lines(int paragraph) throws IndexOutOfBoundsException {
@@ -1591,7 +1591,7 @@ public final class Catcodia {
                     int end = readWord(from, i);
                     weigh();
                     if (copyWord(from, i, end, to)) any = true;
-                    i = end;
+                    i = Math.max(end, i + 1);
                 }
             }
             return any;
@@ -1678,7 +1678,6 @@ public final class Catcodia {
         private final int[] count5 = new int[SIDE * 5];
         private long[] exact = new long[0];
         private final int[] chosen = new int[SIDE];
-        int told;
         final Row lineCounts = new Row(16);
         final Row placeCounts = new Row(16);
         long[] demerits = new long[16];
@@ -1694,13 +1693,12 @@ public final class Catcodia {
         }
 
         void reset() {
-            told = 0;
             lineCounts.n = 0;
             placeCounts.n = 0;
         }
 
         boolean has(int paragraph) {
-            return paragraph >= 0 && paragraph < told && paragraph < demerits.length;
+            return paragraph >= 0 && paragraph < lineCounts.n && paragraph < demerits.length;
         }
 
         /** Ends the paragraph that is being made. */
@@ -1887,6 +1885,7 @@ public final class Catcodia {
         }
 
         private void record(int lines, int limit) {
+            int told = lineCounts.n;
             if (told >= demerits.length) demerits = Arrays.copyOf(demerits, 2 * demerits.length);
             long sum = 0;
             int p = 0;
@@ -1901,7 +1900,6 @@ public final class Catcodia {
             lineCounts.add(lines);
             placeCounts.add(places);
             if (told == tried && places <= MOST_TRIED) least = tryAll(limit, state.value[LOOSE] == 0 ? 0 : lines);
-            told++;
         }
 
         /** The least sum of all rows of lines within the limit, with so many lines if this is not 0. */
@@ -2214,17 +2212,20 @@ public final class Catcodia {
             int from = tokens.listAt(list);
             int end = from + tokens.listSize(list);
             int columns = 0;
-            int partEnd = from - 1;
-            do {
-                int begin = partEnd + 1;
-                partEnd = partEnd(begin, end);
+            int begin = from;
+            int stop = from;
+            while (columns <= MOST_COLUMNS) {
                 if (columns == MOST_COLUMNS) state.fail(6);
-                data[at + TEMPLATE + 3 * columns] = begin;
-                data[at + TEMPLATE + 3 * columns + 1] = slot(begin, partEnd);
-                data[at + TEMPLATE + 3 * columns + 2] = partEnd;
+                stop = partEnd(begin, end);
+                int part = at + TEMPLATE + 3 * columns;
+                data[part] = begin;
+                data[part + 1] = slot(begin, stop);
+                data[part + 2] = stop;
                 columns++;
-            } while (partEnd < end && tokens.pool.get(partEnd) != CR);
-            data[at + CURSOR] = partEnd < end ? partEnd + 1 : end;
+                if (stop >= end || tokens.pool.get(stop) == CR) break;
+                begin = stop + 1;
+            }
+            data[at + CURSOR] = stop < end ? stop + 1 : end;
             data[at + LAST] = end;
             data[at + COLUMNS] = columns;
             data[at + COLUMN] = 0;
@@ -2349,22 +2350,19 @@ public final class Catcodia {
         private final int[] groups = new int[MOST_GROUPS * G_PARTS];
         /** Whether the run is not that of the document. */
         boolean stale = true;
-        private boolean over;
         /** What has to come next: a BOX, an assignment, the glue of \leaders, or, if it is 0, any token. */
         private int awaited;
-        /** What becomes of the BOX that comes, and its number and \global. */
+        /** What becomes of the BOX that comes, a number for that, and \global. */
         private int target;
         private int targetNumber;
         private boolean global;
-        private int leader;
         /** A command that goes on when the page has been looked at, -1 without one. */
         private int resumed;
-        /** 0 ahead of the end of the document, 1 at it, 2 when nothing was found open there. */
+        /** 0 ahead of the end of the document, 1 at it, 2 when nothing was found open there, 3 when all is over. */
         private int ending;
         private int poured;
-        /** The token that is executed, what it means as a character, and as a command. */
+        /** The token that is executed, and the command that it means. */
         private int token;
-        private int sign;
         private int command;
 
         private void reset(int[] document, int length) {
@@ -2377,12 +2375,10 @@ public final class Catcodia {
             lines.reset();
             expander.reset();
             align.reset();
-            over = false;
             awaited = NOTHING;
             target = ALONE;
             targetNumber = 0;
             global = false;
-            leader = 0;
             resumed = -1;
             ending = 0;
             poured = 0;
@@ -2394,7 +2390,7 @@ public final class Catcodia {
             stale = false;
             reset(document, length);
             try {
-                for (int i = 0; i < FAR && !over; i++) {
+                for (int i = 0; i < FAR && ending < 3; i++) {
                     switch (job()) {
                         case LOOK_AT_PAGE: page.work(); break;
                         case RUN_OUTPUT: runOutput(); break;
@@ -2411,7 +2407,7 @@ public final class Catcodia {
                     }
                 }
             } catch (IllegalStateException e) {
-                over = true;
+                ending = 3;
             }
         }
 
@@ -2438,8 +2434,7 @@ public final class Catcodia {
             if (held && tokens.expandable(m)) return NOTHING;
             if (m == 0) state.fail(1);
             if (m >> 16 == IS_CHARACTER) {
-                sign = m & 0xFFF;
-                int kind = sign >> 8;
+                int kind = m >> 8 & 15;
                 return kind == OPEN ? BEGIN_GROUP : kind == CLOSE ? END_GROUP : SIGN;
             }
             command = m & 0xFFFF;
@@ -2488,7 +2483,7 @@ public final class Catcodia {
             if (ending == 1 && (state.groups > 0 || expander.conditions.n > 0)) state.fail(9);
             ending = 2;
             if (page.isUnfinished()) page.breakAt(page.list.n, 0);
-            else over = true;
+            else ending = 3;
         }
 
         // ---- groups
@@ -2572,7 +2567,7 @@ public final class Catcodia {
             if (target == TO_REGISTER) state.set(BOXES + targetNumber, box, global);
             if (target == FOR_LEADERS) {
                 if (box == 0) state.fail(6);
-                leader = box;
+                targetNumber = box;
                 awaited = MAKE_LEADERS;
             }
             if (box == 0) return;
@@ -2589,7 +2584,7 @@ public final class Catcodia {
 
         private void makeLeaders() {
             awaited = NOTHING;
-            int box = leader;
+            int box = targetNumber;
             int p = tokens.command(expander.needed());
             if (p != (nest.isUpright() ? C_VSKIP : C_HSKIP)) state.fail(7);
             expander.amount(true);
@@ -2599,7 +2594,8 @@ public final class Catcodia {
         // ---- what is no assignment
 
         private void typesetSign() {
-            int kind = sign >> 8;
+            int sign = tokens.meaning(token);
+            int kind = sign >> 8 & 15;
             if (kind == PARAMETER || kind == TAB) state.fail(7);
             if (kind == BLANK) {
                 if (!nest.isUpright()) nest.append(Items.BLANK_GLUE);
