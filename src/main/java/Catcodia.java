@@ -1975,6 +1975,8 @@ public final class Catcodia {
         private long takenSize;
         private final Row left = new Row(8);
         private boolean leftBefore;
+        /** How many items stay in the list when a page is broken; the one that broke it is none of them. */
+        private int stays;
         private int best;
         private int bestCost;
         private boolean solid;
@@ -2130,6 +2132,7 @@ public final class Catcodia {
             for (int i = 0; i < taken.n; i++) items.list.add(taken.get(i));
             state.set(BOXES + 8, taken.n == 0 ? 0 : items.pack(VBOX, takenFirst, taken.n, NATURAL, 0), true);
             tellMarks(place);
+            stays = waiting.n + Math.max(0, list.n - place - 1);
             if (again != 0) waiting.add(again);
             for (int i = list.n - 1; i > place; i--) waiting.add(list.get(i));
             leftBefore = left.n > 0;
@@ -2162,6 +2165,7 @@ public final class Catcodia {
         }
 
         private void putLeft() {
+            if (stays + left.n > MOST_ITEMS) state.fail(10);
             for (int i = left.n - 1; i >= 0; i--) waiting.add(left.get(i));
             left.n = 0;
         }
@@ -2171,6 +2175,7 @@ public final class Catcodia {
             open = false;
             if (state.value[BOXES + 9] != 0) state.fail(13);
             for (int i = size - 1; i >= 0; i--) waiting.add(items.list.get(first + i));
+            stays += size;
             putLeft();
         }
     }

@@ -1,0 +1,500 @@
+/** What the document promises, each promise by documents and the answers that are due. */
+public final class CatcodiaTest {
+    private static int wrong = 0;
+    private static int asked = 0;
+
+    private static Catcodia of(String text) {
+        Catcodia x = new Catcodia();
+        int at = 0;
+        while (at < text.length()) {
+            int n = Math.min(8, text.length() - at);
+            long signs = 0;
+            for (int i = n - 1; i >= 0; i--) signs = signs << 8 | text.charAt(at + i);
+            x.feed(signs, n);
+            at += n;
+        }
+        return x;
+    }
+
+    private static void due(String what, long got, long want) {
+        asked++;
+        if (got == want) return;
+        wrong++;
+        System.out.println(what + " answered " + got + ", due is " + want);
+    }
+
+    private static void error(int want, String text) {
+        due("error of " + text, of(text).error(), want);
+    }
+
+    private static void steps(int want, String text) {
+        due("steps of " + text, of(text).steps(), want);
+    }
+
+    private static void register(int want, int what, int n, String text) {
+        Catcodia x = of(text);
+        due("register " + what + " " + n + " of " + text, x.register(what, n), want);
+    }
+
+    private static void count(int want, String text) {
+        Catcodia x = of(text);
+        due("error of " + text, x.error(), 0);
+        due("count 0 of " + text, x.register(0, 0), want);
+    }
+
+    private static void parameter(int want, int which, String text) {
+        due("parameter " + which + " of " + text, of(text).parameter(which), want);
+    }
+
+    private static void classOf(int want, int code, String text) {
+        due("class of " + code + " of " + text, of(text).classOf(code), want);
+    }
+
+    private static void items(int want, int page, String text) {
+        due("items " + page + " of " + text, of(text).items(page), want);
+    }
+
+    /** The numbers 0 to 6 of an item. */
+    private static void item(String text, int page, int item, int... want) {
+        Catcodia x = of(text);
+        for (int i = 0; i < want.length; i++) {
+            due("item " + page + " " + item + " " + i + " of " + text, x.item(page, item, i), want[i]);
+        }
+    }
+
+    /** The kinds of all items of a page or box. */
+    private static void kinds(String want, int page, String text) {
+        Catcodia x = of(text);
+        StringBuilder got = new StringBuilder();
+        for (int i = 0; i < x.items(page); i++) got.append(x.item(page, i, 0));
+        asked++;
+        if (want.contentEquals(got)) return;
+        wrong++;
+        System.out.println("kinds " + page + " of " + text + " are " + got + ", due is " + want);
+    }
+
+    /** The codes of the characters of a page or box. */
+    private static void signs(String want, int page, String text) {
+        Catcodia x = of(text);
+        StringBuilder got = new StringBuilder();
+        if (x.error() != 0) got.append("error ").append(x.error());
+        for (int i = 0; i < x.items(page); i++) {
+            if (x.item(page, i, 0) == Catcodia.CHARACTER) got.append((char) x.item(page, i, 4));
+        }
+        asked++;
+        if (want.contentEquals(got)) return;
+        wrong++;
+        System.out.println("signs " + page + " of " + text + " are " + got + ", due is " + want);
+    }
+
+    private static void paragraph(String text, int paragraph, int lines, long demerits, long byTrying) {
+        Catcodia x = of(text);
+        due("lines " + paragraph + " of " + text, x.lines(paragraph), lines);
+        due("demerits " + paragraph + " of " + text, x.demerits(paragraph), demerits);
+        due("demerits by trying " + paragraph + " of " + text, x.demeritsByTrying(paragraph), byTrying);
+    }
+
+    private interface Call {
+        void call();
+    }
+
+    private static void refused(String what, Class<?> by, Call call) {
+        asked++;
+        Class<?> got = null;
+        try {
+            call.call();
+        } catch (RuntimeException e) {
+            got = e.getClass();
+        }
+        if (got == by) return;
+        wrong++;
+        System.out.println(what + " was answered by " + got + ", due is " + by);
+    }
+
+    private static String times(int n, String s) {
+        return s.repeat(n);
+    }
+
+    // ---- the promises
+
+    private static void aNewObject() {
+        Catcodia x = new Catcodia();
+        due("new error", x.error(), 0);
+        due("new steps", x.steps(), 0);
+        due("new pages", x.pages(), 0);
+        due("new paragraphs", x.paragraphs(), 0);
+        due("new cut", x.cut(0), 0);
+        for (int n = 0; n < 10; n++) {
+            for (int what = 0; what < 7; what++) due("new register", x.register(what, n), 0);
+            for (int what = 7; what < 10; what++) due("new box", x.register(what, n), Catcodia.NONE);
+            due("new box", x.items(-1 - n), 0);
+        }
+        due("NONE", Catcodia.NONE, -1000000000);
+    }
+
+    private static void feed() {
+        Catcodia x = new Catcodia();
+        due("feed", x.feed(0x6261L, 2), 2);
+        due("feed the low signs alone", x.feed(0xFF00000063L, 1), 3);
+        due("feed eight", x.feed(0x6161616161616161L, 8), 11);
+        refused("feed of none", IllegalArgumentException.class, () -> x.feed(0x61, 0));
+        refused("feed of nine", IllegalArgumentException.class, () -> x.feed(0x6161616161616161L, 9));
+        refused("feed of a 0", IllegalArgumentException.class, () -> x.feed(0x610061, 3));
+        refused("feed of 128", IllegalArgumentException.class, () -> x.feed(128, 1));
+        refused("feed of a sign below 0", IllegalArgumentException.class, () -> x.feed(-1L, 8));
+        due("refused calls change nothing", x.cut(0), 11);
+        signs("abcaaaaaaaa", -1, "\\setbox0\\hbox{abcaaaaaaaa}");
+        Catcodia y = of(times(476, "%"));
+        refused("feed beyond 480", IllegalStateException.class, () -> y.feed(0x2525252525L, 5));
+        due("feed up to 480", y.feed(0x25252525L, 4), 480);
+        refused("feed beyond 480", IllegalStateException.class, () -> y.feed(0x25L, 1));
+        due("480 stay", y.cut(0), 480);
+    }
+
+    private static void cut() {
+        Catcodia x = of("\\count0=57");
+        due("count", x.register(0, 0), 57);
+        due("cut", x.cut(1), 9);
+        due("count behind cut", x.register(0, 0), 5);
+        refused("cut of too many", IllegalArgumentException.class, () -> x.cut(10));
+        refused("cut of -1", IllegalArgumentException.class, () -> x.cut(-1));
+        due("cut of all", x.cut(9), 0);
+        due("count of nothing", x.register(0, 0), 0);
+    }
+
+    private static void errors() {
+        error(1, "\\x");
+        error(1, "~");
+        error(1, "\\");
+        error(1, "\\wd0 ");
+        error(1, "\\ht");
+        error(2, "\\count");
+        error(2, "\\count0=");
+        error(2, "\\count0=`");
+        error(2, "\\hbox");
+        error(2, "\\toks0={a");
+        error(2, "\\def\\a");
+        error(2, "\\ifnum1=2 a");
+        error(2, "\\ifnum1");
+        error(2, "\\def\\a#1.{}\\a b");
+        error(2, "\\csname a");
+        error(2, "\\expandafter\\relax");
+        error(2, "\\setbox0=");
+        error(2, "\\global");
+        error(3, "\\def\\a.{}\\a!");
+        error(3, "\\def\\a.{}\\a}");
+        error(4, "\\count0=x");
+        error(4, "\\count0=\\skip0");
+        error(4, "\\count0=`\\ab");
+        error(4, "\\the a");
+        error(4, "\\the\\wd0");
+        error(4, "\\ifnum1a2\\fi");
+        error(0, "\\count0=1000000 ");
+        error(5, "\\count0=1000001 ");
+        error(5, "\\count0=1000000\\advance\\count0 by1 ");
+        error(5, "\\count0=-1000000\\advance\\count0-1 ");
+        error(5, "\\count0=1001\\multiply\\count0 by1000 ");
+        error(0, "\\count0=1000\\multiply\\count0 by-1000 ");
+        error(5, "\\setbox0\\hbox{\\kern1000000 \\kern1 }");
+        error(5, "\\setbox0\\vbox{\\kern-1000000 \\kern-1 }");
+        error(5, "\\setbox0\\hbox spread 1000000{a}");
+        error(5, "\\hbox{\\raise1000000\\hbox{a}}");
+        error(6, "\\count10=1");
+        error(6, "\\count-1=1");
+        error(6, "\\class0=1");
+        error(6, "\\class128=1");
+        error(6, "\\class65=11");
+        error(6, "\\box10");
+        error(6, "\\setbox0=a");
+        error(6, "\\hbox a");
+        error(6, "\\def a{}");
+        error(6, "\\let a=b");
+        error(6, "\\def\\a#2{}");
+        error(6, "\\def\\a{#1}");
+        error(6, "\\def\\a#1{#2}");
+        error(6, "\\def\\a}");
+        error(6, "\\global a");
+        error(6, "\\global\\relax");
+        error(6, "\\advance\\toks0 by1");
+        error(6, "\\csname\\relax\\endcsname");
+        error(6, "\\patterns{A}");
+        error(6, "\\patterns{\\x}");
+        error(6, "\\leaders\\box0\\hskip1");
+        error(7, "#");
+        error(7, "&");
+        error(7, "\\hbox{\\vskip1}");
+        error(7, "\\hbox{\\align{#\\cr}}");
+        error(7, "\\-");
+        error(0, "a\\-");
+        error(7, "\\raise1\\hbox{}");
+        error(7, "\\vbox{\\insert{}}");
+        error(7, "\\hbox{\\insert{}}");
+        error(0, "a\\insert{}");
+        error(7, "\\leaders\\hbox{}\\hskip1");
+        error(7, "a\\leaders\\hbox{}\\vskip1");
+        error(7, "\\leaders\\hbox{}a");
+        error(7, "\\setbox0\\vbox{a}\\hbox{\\pour0}");
+        error(0, "\\hbox{\\pour0}\\vbox{\\pour0}");
+        error(8, "}");
+        error(8, "\\def\\a#1{}\\a}");
+        error(8, "\\def\\a#1.{}\\a b}");
+        error(9, "{");
+        error(9, "\\hbox{a");
+        error(9, "\\ifnum1=1 a");
+        error(9, "{a\\end}");
+        error(0, "a\\end}");
+        error(11, "\\fi");
+        error(11, "\\else");
+        error(11, "\\ifnum1=1\\fi");
+        error(11, "\\ifnum1=2 \\else\\else\\fi");
+        error(0, "\\ifnum1=1 \\else\\else\\fi");
+        error(11, "\\endcsname");
+        error(11, "\\cr");
+        error(12, "\\divide\\count0 by0");
+        error(12, "\\divide\\hsize by\\count1");
+        error(13, "\\output{\\relax}\\hbox{a}");
+    }
+
+    private static void limits() {
+        steps(1500, "\\def\\a{\\a}\\a");
+        error(10, "\\def\\a{\\a}\\a");
+        error(0, times(40, "{") + times(40, "}"));
+        error(10, times(41, "{") + times(41, "}"));
+        error(0, "\\count0=" + times(39, "\\count") + "0 ");
+        error(10, "\\count0=" + times(40, "\\count") + "0 ");
+        error(0, "\\let\\e\\expandafter" + times(40, "\\e.") + "a");
+        error(10, "\\let\\e\\expandafter" + times(41, "\\e.") + "a");
+        error(0, "\\let\\e\\expandafter\\kern" + times(39, "\\e-") + "1 ");
+        error(10, "\\let\\e\\expandafter\\kern" + times(40, "\\e-") + "1 ");
+        String ten = "\\def\\a{xxxxxxxxxx}\\def\\b{\\a\\a\\a\\a\\a\\a\\a\\a\\a\\a}\\def\\c{\\b\\b\\b\\b\\b\\b}";
+        error(0, ten + "\\edef\\d{\\c}");
+        error(10, ten + "\\edef\\d{\\c x}");
+        error(0, ten + "\\mark{\\c}");
+        error(10, ten + "\\mark{\\c x}");
+        error(0, ten + "\\edef\\d{\\c}\\def\\e#1{}\\expandafter\\e\\expandafter{\\d}");
+        error(0, ten + "\\edef\\d{\\c}\\toks0\\expandafter{\\d}");
+        error(10, ten + "\\edef\\d{\\c}\\toks0\\expandafter{\\d x}");
+        error(10, ten + "\\edef\\d{\\c}\\def\\e#1{#1x}\\expandafter\\e\\expandafter{\\d}");
+        error(0, ten + "\\edef\\d{\\c}\\def\\e#1.{}\\expandafter\\e\\d.");
+        error(10, ten + "\\edef\\d{\\c}\\def\\e#1.{}\\expandafter\\e\\d x.");
+        error(10, ten + "\\edef\\d{\\c}\\def\\e#1.{}\\expandafter\\e\\expandafter{\\d}.");
+        error(0, ten + "\\edef\\d{\\c}\\def\\e#1..{}\\expandafter\\e\\d..");
+        error(2, ten + "\\edef\\d{\\c}\\def\\e#1..{}\\expandafter\\e\\d.");
+        error(10, ten + "\\edef\\d{\\c}\\def\\e#1..{}\\expandafter\\e\\d.x");
+        String box = "\\setbox0\\hbox{aaaaaaaaa}\\setbox0\\hbox{" + times(11, "\\copy0") + "}";
+        // 10 and 1 + 11 * 10 = 111; 18 * 111 = 1998, with the box itself 1999
+        items(1999, -1, box + "\\setbox0\\hbox{" + times(18, "\\copy0") + "}");
+        items(2000, -1, box + "\\setbox0\\hbox{a" + times(18, "\\copy0") + "}");
+        error(10, box + "\\setbox0\\hbox{aa" + times(18, "\\copy0") + "}");
+        error(10, box + "\\setbox0\\hbox to 1000000{\\kern1000000 aa" + times(18, "\\copy0") + "}");
+        error(0, times(1, "a") + times(40, " a"));
+        error(10, times(1, "a") + times(41, " a"));
+        String pages = "\\def\\a{\\hbox{a}\\penalty-10000 }";
+        due("pages", of(pages + times(40, "\\a")).pages(), 40);
+        due("pages", of(pages + times(41, "\\a")).pages(), 40);
+        error(10, pages + times(41, "\\a"));
+        // pouring: 10 items twice, then 100 of them, and so on
+        String pour = "\\setbox0\\hbox{aaaaaaaaaa}\\def\\p{\\setbox0\\hbox{\\setbox1\\copy0\\pour0\\pour1}}";
+        items(21, -1, pour + "\\p");
+        items(1281, -1, pour + times(7, "\\p"));
+        // 20 + 40 + .. + 1280 = 2540; then 1280 more, and 180 at most
+        error(0, pour + times(7, "\\p") + "\\hbox{\\setbox1\\hbox{\\pour0}}");
+        error(10, pour + times(7, "\\p") + "\\hbox{\\setbox1\\hbox{\\pour0}\\pour1}");
+        error(10, pour + times(7, "\\p") + "\\p");
+    }
+
+    private static void stepsMade() {
+        steps(0, "");
+        steps(0, "%abc");
+        steps(3, "abc");
+        steps(1, "\n\n");
+        steps(1, " \n ");
+        steps(3, "\\hbox{a}");
+        steps(1, "\\global\\count0=5");
+        steps(5, "\\setbox0=\\hbox{ab}{");
+        steps(2, "\\def\\a{}\\a");
+        steps(5, "\\def\\a{b}\\expandafter\\relax\\a");
+        steps(3, "\\noexpand\\fi a");
+        steps(3, "\\csname a\\endcsname\\count0=\\count1 ");
+        steps(3, "\\ifnum1=1 a\\fi");
+        steps(2, "\\ifnum1=2 aaa\\fi b");
+        steps(3, "\\ifnum1=2 aaa\\else b\\fi");
+        steps(7, "\\align{#x\\cr a\\cr b\\cr}");
+        steps(5, "\\output{\\shipout\\box9 }\\hbox{}");
+        steps(2, "\\edef\\a{\\the\\count0 }");
+        steps(1, "\\x");
+        steps(2, "a\\end aaa");
+        steps(3, "a\\vskip1 b");
+    }
+
+    private static void classes() {
+        String at = "\\ \n{}#~%&";
+        int[] want = {0, 4, 4, 1, 2, 3, 7, 8, 10};
+        for (int i = 0; i < at.length(); i++) classOf(want[i], at.charAt(i), "");
+        for (int code = 1; code < 128; code++) {
+            boolean letter = code >= 'A' && code <= 'Z' || code >= 'a' && code <= 'z';
+            if (at.indexOf(code) < 0) classOf(letter ? 5 : 6, code, "");
+        }
+        classOf(9, 65, "\\class65=9 ");
+        classOf(5, 65, "{\\class65=9 }");
+        classOf(9, 65, "{\\global\\class65=9 }");
+        classOf(9, 65, "{\\class65=9 {");
+        classOf(9, 65, "{\\class65=9 \\x");
+        classOf(3, 1, "\\class1 3 ");
+        refused("class of 0", IndexOutOfBoundsException.class, () -> new Catcodia().classOf(0));
+        refused("class of 128", IndexOutOfBoundsException.class, () -> new Catcodia().classOf(128));
+        due("class of 127", new Catcodia().classOf(127), 6);
+        // tokens are read by the classes of then, and keep theirs
+        signs("ab", -1, "\\class`\\!=9 \\setbox0\\hbox{a!b!}");
+        signs("a!b", -1, "\\def\\x{a!b}\\class`\\!=9 \\setbox0\\hbox{\\x}");
+        signs("xA", -1, "\\class`\\A=7 \\defA{x}\\setbox0\\hbox{A\\class`\\A=5 A}");
+        signs("c", -1, "\\class49=5 \\def\\a1{c}\\setbox0\\hbox{\\a1}");
+        signs("ab", -1, "\\class`\\(=1 \\class`\\)=2 \\setbox0\\hbox(ab)");
+        signs("ab", -1, "\\class`\\*=0 *setbox0*hbox{ab}");
+        signs("ab", -1, "\\class`\\;=8 \\setbox0\\hbox{a;xx\nb}");
+        kinds("1404", -1, "\\class`\\_=4 \\setbox0\\hbox{_a _\n_}");
+    }
+
+    private static void registers() {
+        register(-7, 0, 3, "\\count3=-7");
+        register(7, 0, 3, "\\count3 = - + - 7");
+        register(7, 1, 9, "\\len9 7");
+        register(65, 0, 0, "\\count0=`A");
+        register(123, 0, 0, "\\count0=`\\{");
+        register(125, 0, 0, "\\count0=`}");
+        register(37, 0, 0, "\\count0=`\\%");
+        register(12, 0, 0, "\\count1=12\\count0=\\count1");
+        register(-12, 0, 0, "\\len1=12\\count0=-\\len1");
+        register(5, 0, 0, "\\count0=\\class65");
+        register(100, 0, 0, "\\count0=\\hsize");
+        register(0, 0, 0, "\\count0=5\\count0=\\wd3");
+        register(5, 0, 0, "\\count0=5{\\count0=6}");
+        register(7, 0, 0, "\\count0=5{\\count0=6\\global\\count0=7}");
+        register(8, 0, 0, "\\count0=5{\\global\\count0=8\\count0=7}");
+        register(9, 0, 0, "{\\count0=1{\\count0=6\\global\\count0=9\\count0=7}}");
+        register(6, 0, 0, "\\count0=5{\\count0=6");
+        register(-3, 0, 0, "\\count0=-7\\divide\\count0 by2");
+        register(9, 0, 0, "\\count0=4\\advance\\count0 5");
+        register(3, 0, 0, "\\count0=4\\advance\\count0by-1");
+        register(-12, 1, 0, "\\len0=4\\multiply\\len0 by-3");
+        String skip = "\\skip2=3 plus 4ff minus-5fff ";
+        int[] want = {3, 4, 2, -5, 3};
+        for (int i = 0; i < 5; i++) register(want[i], 2 + i, 2, skip);
+        int[] turned = {-3, -4, 2, 5, 3};
+        for (int i = 0; i < 5; i++) register(turned[i], 2 + i, 1, skip + "\\skip1=-\\skip2 ");
+        register(10, 2, 2, skip + "\\advance\\skip2 by7 plus 9 ");
+        register(4, 3, 2, skip + "\\advance\\skip2 by7 plus 9 ");
+        register(1, 2, 2, skip + "\\divide\\skip2 by2 ");
+        register(4, 3, 2, skip + "\\multiply\\skip2 by2 ");
+        register(1, 4, 0, "\\skip0=1 plus 2 f");
+        register(3, 4, 0, "\\skip0=1plus2fffa");
+        register(2, 5, 0, "\\skip0=1minus2");
+        register(0, 5, 0, "\\skip0=1 min");
+        register(14, 7, 0, "\\setbox0\\hbox{ab}");
+        register(7, 8, 0, "\\setbox0\\hbox{ab}");
+        register(2, 9, 0, "\\setbox0\\hbox{i}");
+        register(Catcodia.NONE, 9, 1, "\\setbox0\\hbox{i}");
+        register(0, 7, 0, "\\setbox0\\hbox{}");
+        register(50, 7, 0, "\\setbox0\\hbox to50{ab}");
+        register(20, 7, 0, "\\setbox0\\hbox spread6{ab}");
+        register(Catcodia.NONE, 7, 0, "\\setbox0\\hbox{a}\\setbox1\\box0");
+        register(Catcodia.NONE, 7, 0, "\\setbox0\\hbox{a}{\\setbox1\\box0}");
+        register(10, 7, 0, "\\setbox0\\hbox{a}{\\setbox0\\hbox{b}\\setbox1\\box0}");
+        register(10, 7, 0, "\\setbox0\\hbox{a}{\\setbox0\\hbox{b}}");
+        register(4, 7, 0, "\\setbox0\\hbox{a}{\\global\\setbox0\\hbox{b}}");
+        // a vertical box: 7 and 2 of i, glue of 12 - 2 - 7, 7 of a
+        register(9 + 3 + 7, 8, 0, "\\setbox0\\vbox{\\hbox{i}\\hbox{a}}");
+        register(0, 9, 0, "\\setbox0\\vbox{\\hbox{i}\\hbox{a}}");
+        register(2, 9, 0, "\\setbox0\\vbox{\\hbox{a}\\hbox{i}}");
+        register(0, 9, 0, "\\setbox0\\vbox{\\hbox{i}\\kern1 }");
+        register(10, 8, 0, "\\setbox0\\vbox{\\hbox{i}\\kern1 }");
+        register(10, 7, 0, "\\setbox0\\vbox{\\hbox{i}\\hbox{a}\\rule5 1 1}");
+        register(90, 8, 0, "\\setbox0\\vbox to90{\\hbox{i}\\hbox{a}}");
+        refused("register 10", IllegalArgumentException.class, () -> new Catcodia().register(10, 0));
+        refused("register -1", IllegalArgumentException.class, () -> new Catcodia().register(-1, 0));
+        refused("register of 10", IndexOutOfBoundsException.class, () -> new Catcodia().register(0, 10));
+        refused("register of -1", IndexOutOfBoundsException.class, () -> new Catcodia().register(9, -1));
+    }
+
+    private static void parameters() {
+        int[] first = {100, 120, 10, 12, 200, 0, 10, 50};
+        String[] names = {"hsize", "vsize", "indent", "base", "tol", "loose", "linepen", "hyphpen"};
+        for (int i = 0; i < 8; i++) {
+            parameter(first[i], i, "");
+            parameter(-9, i, "\\" + names[i] + "=-9");
+            parameter(first[i], i, "{\\" + names[i] + "=-9}");
+            parameter(first[i] + 2, i, "\\advance\\" + names[i] + " by2");
+            due("the", of("\\count0=\\" + names[i]).register(0, 0), first[i]);
+        }
+        refused("parameter 8", IndexOutOfBoundsException.class, () -> new Catcodia().parameter(8));
+        refused("parameter -1", IndexOutOfBoundsException.class, () -> new Catcodia().parameter(-1));
+    }
+
+    private static void expansion() {
+        signs("(a)(b)", -1, "\\def\\x#1{(#1)}\\setbox0\\hbox{\\x a\\x{b}}");
+        signs("ba", -1, "\\def\\x#1#2{#2#1}\\setbox0\\hbox{\\x a b}");
+        signs("cab.", -1, "\\def\\x#1.#2;{#2#1}\\setbox0\\hbox{\\x{ab}.c;.}");
+        signs("a.bc", -1, "\\def\\x#1;{#1}\\setbox0\\hbox{\\x{a.}{bc};}");
+        signs("ab", -1, "\\def\\x!#1!#2{#1#2}\\setbox0\\hbox{\\x!a!b}");
+        signs("[aab]", -1, "\\def\\x#1ab;{[#1]}\\setbox0\\hbox{\\x aabab;}");
+        signs("xya", -1, "\\def\\x#1{\\def\\y##1{#1##1}}\\setbox0\\hbox{\\x x\\y{ya}}");
+        signs("ba", -1, "\\def\\a{a}\\edef\\b{b\\a}\\def\\a{c}\\setbox0\\hbox{\\b}");
+        signs("bc", -1, "\\def\\a{a}\\edef\\b{b\\noexpand\\a}\\def\\a{c}\\setbox0\\hbox{\\b}");
+        signs("a", -1, "\\def\\a{a}\\toks0{\\a}\\edef\\b{\\the\\toks0}\\setbox0\\hbox{\\b}");
+        signs("c", -1, "\\def\\a{a}\\toks0{\\a}\\edef\\b{\\the\\toks0}\\def\\a{c}\\setbox0\\hbox{\\b}");
+        signs("x1", -1, "\\toks0{x#1}\\edef\\b#1{\\the\\toks0}\\setbox0\\hbox{\\b1}");
+        signs("-12", -1, "\\count1=-12\\setbox0\\hbox{\\the\\count1}");
+        signs("3plus-4ffminus5", -1, "\\skip1=3plus-4ffminus5\\setbox0\\hbox{\\the\\skip1}");
+        kinds("104000040", -1, "\\skip1=3plus4\\setbox0\\hbox{\\the\\skip1}");
+        kinds("104040", -1, "\\toks1{a b c}\\setbox0\\hbox{\\the\\toks1}");
+        signs("5", -1, "\\setbox0\\hbox{\\the\\class65 }");
+        signs("a", -1, "\\let\\x=a\\setbox0\\hbox{\\x}");
+        signs("=", -1, "\\let\\x = =\\setbox0\\hbox{\\x}");
+        signs("ac", -1, "\\def\\a{a}\\let\\b=\\a\\def\\a{c}\\setbox0\\hbox{\\b\\a}");
+        signs("ab", -1, "\\let\\bg={\\let\\eg=}\\setbox0\\hbox\\bg ab\\eg");
+        signs("q", -1, "\\def\\ab{q}\\def\\x{b}\\setbox0\\hbox{\\csname a\\x\\endcsname}");
+        signs("", -1, "\\setbox0\\hbox{\\csname ab\\endcsname}");
+        error(1, "{\\csname ab\\endcsname}\\ab");
+        error(0, "\\csname ab\\endcsname\\ab");
+        signs("b", -1, "\\def\\x{a}\\def\\a{\\x}\\def\\y#1{b}\\setbox0\\hbox{\\expandafter\\y\\a}");
+        signs("xa", -1, "\\def\\q#1{x}\\def\\a{\\b a}\\def\\b{b}\\setbox0\\hbox{\\expandafter\\q\\a}");
+        count(1, "\\ifx ab\\else\\count0=1\\fi");
+        count(1, "\\ifx aa\\count0=1\\fi");
+        count(1, "\\let\\x=a\\ifx\\x a\\count0=1\\fi");
+        count(1, "\\ifx\\x\\y\\count0=1\\fi");
+        count(1, "\\ifx\\x~\\count0=1\\fi");
+        count(1, "\\def\\x#1.{a#1}\\def\\y#1.{a#1}\\ifx\\x\\y\\count0=1\\fi");
+        count(2, "\\def\\x#1.{a#1}\\def\\y#1,{a#1}\\ifx\\x\\y\\count0=1\\else\\count0=2\\fi");
+        count(2, "\\def\\x#1{a}\\def\\y{a}\\ifx\\x\\y\\count0=1\\else\\count0=2\\fi");
+        count(1, "\\let\\x=\\relax\\ifx\\x\\relax\\count0=1\\fi");
+        count(1, "\\ifvoid3 \\count0=1\\fi");
+        count(2, "\\setbox3\\hbox{}\\ifvoid3 \\count0=1\\else\\count0=2\\fi");
+        count(3, "\\ifnum1>2 \\ifnum1=1 \\else\\fi\\else\\count0=3\\fi");
+        count(3, "\\let\\f=\\fi\\ifnum2<1 \\x\\ifx ab\\else\\f\\else\\count0=3\\f");
+        count(3, "\\ifnum-1<0\\count0=3 \\fi");
+        count(12, "\\ifnum1=1 \\count0=1\\fi2 ");
+        count(5, "\\def\\a#1{\\ifnum#1<5 \\expandafter\\b\\else\\count0=#1 \\fi}\\count1=0 "
+            + "\\def\\b{\\advance\\count1 by1 \\a{\\count1}}\\b");
+        // a blank line is \par
+        due("paragraphs", of("a\n\nb").paragraphs(), 2);
+        due("paragraphs", of("a\nb").paragraphs(), 1);
+        due("paragraphs", of("a\n%\n\nb").paragraphs(), 1);
+        due("paragraphs", of("a\\relax\n\nb").paragraphs(), 1);
+        signs("ab", -1, "\\def\\x #1{#1}\\setbox0\\hbox{\\x ab}");
+    }
+
+    public static void main(String[] args) {
+        aNewObject();
+        feed();
+        cut();
+        errors();
+        limits();
+        stepsMade();
+        classes();
+        registers();
+        parameters();
+        expansion();
+        System.out.println(asked + " asked, " + wrong + " wrong");
+        if (wrong != 0) System.exit(1);
+    }
+}
