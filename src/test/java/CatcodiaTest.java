@@ -483,7 +483,197 @@ public final class CatcodiaTest {
         signs("ab", -1, "\\def\\x #1{#1}\\setbox0\\hbox{\\x ab}");
     }
 
+    private static void pages() {
+        due("pages", of("").pages(), 0);
+        due("pages", of("\\vskip5 \\mark{a}").pages(), 0);
+        due("pages", of("\\hbox{a}").pages(), 1);
+        due("pages", of("\\shipout\\hbox{a}\\shipout\\box0").pages(), 1);
+        due("pages", of("\\hbox{\\shipout\\hbox{a}\\x}").pages(), 1);
+        due("pages", of("\\hbox{a}\\penalty-10000 \\hbox{b}\\x").pages(), 1);
+        due("pages", of("\\hbox{a}\\penalty-10000 \\penalty-10000 \\hbox{b}").pages(), 2);
+        due("pages", of("\\insert{\\hbox{a}}").pages(), 0);
+        // 2 times 70 is above 120: all is left for a page that is made of it alone, and again; the 41st is too many
+        due("pages", of("\\insert{\\rule1 70 0}").pages(), 40);
+        error(10, "\\insert{\\rule1 70 0}");
+        due("pages", of("\\output{\\box9}\\hbox{a}").error(), 10);
+        kinds("2210", 0, "\\hbox{a}");
+        kinds("22104", 0, "\\vskip5 \\kern5 \\penalty5 \\hbox{a}\\vskip5 ");
+        kinds("228108410", 0, "\\vskip5 \\mark{}\\vskip5 \\hbox{a}\\mark{}\\hbox{b}");
+        item("\\hbox{i}", 0, 0, 2, 4, 120, 2, 0, 0, 0);
+        item("\\hbox{i}", 0, 1, 2, 4, 120, 2, 10000, 1, 0);
+        item("\\hbox{i}", 0, 3, 0, 4, 7, 2, 105, 3, 0);
+        // a break at the least cost; the glue at it is gone, the one behind it is ahead of the next page
+        String costs = "\\vsize20 \\def\\a{\\hbox{a}\\vskip3 }\\a\\a\\a\\hbox{a}";
+        due("pages", of(costs).pages(), 3);
+        kinds("2210", 0, costs);
+        kinds("2210", 1, costs);
+        kinds("22104410", 2, costs);
+        // of equal costs the last one: 7, 7 + 12 and 7 + 24 are all below 40, 43 is above
+        String equal = "\\vsize40 \\def\\a{\\hbox{a}\\penalty0 }\\a\\a\\a\\a\\a";
+        kinds("221064106410", 0, equal);
+        kinds("221064106", 1, equal);
+        // a penalty that makes the second one dearer than the first one
+        String dear = "\\vsize40 \\def\\a{\\hbox{a}\\penalty0 }\\a\\hbox{a}\\penalty9 \\hbox{a}\\penalty8 \\a\\a";
+        kinds("2210", 0, dear);
+        String split = "\\vsize60 \\insert{\\rule9 20 0\\vskip5 \\rule9 20 0}\\hbox{c}\\penalty-10000 \\hbox{d}";
+        kinds("221023", 0, split);
+        kinds("2210243", 1, split);
+        item(split, 0, 1, 2, 5, 40, 0, 10000);
+        kinds("221010", 0, "\\output{\\shipout\\vbox{\\vbox{\\pour9\\pour8}}}\\insert{\\hbox{b}}\\hbox{a}");
+        String marks = "\\output{\\shipout\\hbox{\\firstmark/\\botmark}\\setbox1\\box9}\\def\\p{\\hbox{}\\penalty-10000 }";
+        signs("/", 0, marks + "\\p");
+        signs("a/c", 0, marks + "\\mark{a}\\mark{b}\\hbox{}\\mark{c}\\p\\p\\mark{d}\\p");
+        signs("c/c", 1, marks + "\\mark{a}\\mark{b}\\hbox{}\\mark{c}\\p\\p\\mark{d}\\p");
+        signs("d/d", 2, marks + "\\mark{a}\\mark{b}\\hbox{}\\mark{c}\\p\\p\\mark{d}\\p");
+        // what \\output makes is ahead of what stayed
+        kinds("110", 1, "\\output{\\ifnum\\count0=0 \\hbox{b}\\fi\\global\\advance\\count0 by1 "
+            + "\\shipout\\hbox{\\hbox{a}}\\setbox1\\box9}\\hbox{a}");
+        error(8, "\\let\\g=}\\output{\\g}\\hbox{}");
+        error(9, "\\let\\g={\\output{\\g}\\hbox{}");
+        error(9, "\\output{\\let\\x=}\\hbox{}");
+        error(8, "\\def\\x#1{}\\output{\\x}\\hbox{}");
+        error(3, "\\def\\x.{}\\output{\\x}\\hbox{}");
+        error(13, "\\output{\\noexpand}\\hbox{}");
+        error(13, "\\output{\\count0=1}\\hbox{}");
+        refused("items of page 1", IndexOutOfBoundsException.class, () -> of("\\hbox{a}").items(1));
+        refused("items of box 10", IndexOutOfBoundsException.class, () -> of("\\hbox{a}").items(-11));
+        refused("item of page 1", IndexOutOfBoundsException.class, () -> of("\\hbox{a}").item(1, 0, 7));
+        refused("item 4", IndexOutOfBoundsException.class, () -> of("\\hbox{a}").item(0, 4, 0));
+        refused("item -1", IndexOutOfBoundsException.class, () -> of("\\hbox{a}").item(0, -1, 0));
+        refused("item of an empty box", IndexOutOfBoundsException.class, () -> of("\\hbox{a}").item(-1, 0, 0));
+        refused("item number 7", IllegalArgumentException.class, () -> of("\\hbox{a}").item(0, 0, 7));
+        refused("item number -1", IllegalArgumentException.class, () -> of("\\hbox{a}").item(0, 0, -1));
+    }
+
+    private static void boxes() {
+        String glue = "\\setbox0\\hbox to20{a\\hskip0 plus1 \\hskip0plus2 b}";
+        item(glue, -1, 0, 1, 20, 7, 0, 800, 0, 0);
+        item(glue, -1, 2, 4, 0, 0, 0, 2, 1, 0);
+        item(glue, -1, 3, 4, 0, 0, 0, 4, 1, 0);
+        String shrunk = "\\setbox0\\hbox to10{a\\hskip5minus3b}";
+        item(shrunk, -1, 0, 1, 10, 7, 0, 1000000, 0, 0);
+        item(shrunk, -1, 2, 4, 0, 0, 0, 2, 1, 0);
+        item("\\setbox0\\hbox to10{a\\hskip5minus1fb}", -1, 2, 4, 0, 0, 0, -4, 1, 0);
+        item("\\setbox0\\hbox to10{a\\hskip5minus1fb}", -1, 0, 1, 10, 7, 0, 0, 0, 0);
+        item("\\setbox0\\hbox to30{a\\hskip3plus-1b}", -1, 0, 1, 30, 7, 0, 10000, 0, 0);
+        item("\\setbox0\\hbox to30{a\\hskip3plus-1b}", -1, 2, 4, 0, 0, 0, 3, 1, 0);
+        // the sum of order 2 is 0, so that of order 0 is used
+        item("\\setbox0\\hbox to20{a\\hskip0plus1ff\\hskip0plus-1ff\\hskip0plus1b}", -1, 4, 4, 0, 0, 0, 6, 1, 0);
+        item("\\setbox0\\hbox to20{a\\hskip0plus1ff\\hskip0plus-1ff\\hskip0plus1b}", -1, 2, 4, 0, 0, 0, 0, 1, 0);
+        // rounded down: 7 times 1, 2 and 3 divided by 3, less what is ahead
+        String thirds = "\\setbox0\\hbox to7{\\hskip0plus1 \\hskip0plus1 \\hskip0plus1 }";
+        item(thirds, -1, 1, 4, 0, 0, 0, 2);
+        item(thirds, -1, 2, 4, 0, 0, 0, 2);
+        item(thirds, -1, 3, 4, 0, 0, 0, 3);
+        item(thirds, -1, 0, 1, 7, 0, 0, 1269);
+        String leaders = "\\setbox0\\hbox to100{a\\leaders\\hbox{.}\\hskip0 plus1f}";
+        item(leaders, -1, 2, 4, 0, 0, 0, 90, 1, 11);
+        items(3, -1, leaders);
+        item("\\setbox0\\vbox{\\leaders\\hbox{i}\\vskip30}", -1, 1, 4, 0, 0, 0, 30, 1, 3);
+        item("\\setbox0\\vbox{\\leaders\\hbox{}\\vskip30}", -1, 1, 4, 0, 0, 0, 30, 1, 0);
+        item("\\setbox0\\vbox{\\leaders\\hbox{i}\\vskip-30}", -1, 1, 4, 0, 0, 0, -30, 1, 0);
+        item("\\setbox0\\hbox{\\raise3\\hbox{i}}", -1, 1, 1, 4, 10, -1, 0, 1, 0);
+        item("\\setbox0\\hbox{\\raise3\\hbox{i}}", -1, 0, 1, 4, 10, 0, 0, 0, 0);
+        item("\\setbox0\\hbox{\\rule1 2 3 }", -1, 1, 3, 1, 2, 3, 0, 1, 0);
+        item("\\setbox0\\hbox{\\kern-4 }", -1, 1, 5, 0, 0, 0, -4, 1, 0);
+        item("\\setbox0\\hbox{\\penalty-40000 }", -1, 1, 6, 0, 0, 0, -10000, 1, 0);
+        item("\\setbox0\\hbox{\\-}", -1, 1, 7, 0, 0, 0, 0, 1, 0);
+        item("\\setbox0\\hbox{\\mark{a}}", -1, 1, 8, 0, 0, 0, 0, 1, 0);
+        kinds("21100064899", -1, "\\setbox0\\vbox{aaa\\mark{}\\insert{}\\insert{\\hbox{a}}}");
+        signs("aab", -1, "\\setbox1\\hbox{aa}\\setbox0\\hbox{\\pour1 b}");
+        items(0, -2, "\\setbox1\\hbox{aa}\\setbox0\\hbox{\\pour1 b}");
+        item("\\setbox1\\hbox to50{\\hskip1plus1}\\setbox0\\hbox{\\pour1}", -1, 1, 4, 0, 0, 0, 1, 1);
+        // no glue comes ahead of what is poured, but behind it
+        kinds("21010410", -1, "\\setbox1\\vbox{\\hbox{a}}\\setbox0\\vbox{\\hbox{a}\\pour1\\hbox{a}}");
+        kinds("2310", -1, "\\setbox0\\vbox{\\rule1 1 1\\hbox{a}}");
+        kinds("2105410", -1, "\\setbox0\\vbox{\\hbox{a}\\kern1 \\hbox{a}}");
+        item("\\setbox0\\vbox{\\hbox{i}\\hbox{i}}", -1, 3, 4, 0, 0, 0, 3, 1);
+        item("\\base2 \\setbox0\\vbox{\\hbox{i}\\hbox{i}}", -1, 3, 4, 0, 0, 0, 0, 1);
+        String align = "\\setbox0\\vbox{\\align{#x&\\hskip0plus1f#\\cr a&b\\cr aa\\cr {a&\\cr}}}";
+        error(7, align);
+        align = "\\setbox0\\vbox{\\align{#x&\\hskip0plus1f#\\cr a&b\\cr aa\\cr &ccc }}";
+        kinds("2" + "1" + "100" + "140" + "4" + "1" + "1000" + "4" + "1" + "10" + "140004", -1, align);
+        // x is 5 wide: 120 % 7 is 1; the columns are 25 and 15 + 6 wide
+        item(align, -1, 2, 1, 25, 7, 2, 10000, 2);
+        item(align, -1, 5, 1, 21, 7, 0, 0, 2);
+        item(align, -1, 6, 4, 0, 0, 0, 17, 3);
+        error(6, "\\align{a\\cr}");
+        error(6, "\\align{##\\cr}");
+        error(6, "\\align{#&#&#&#&#&#&#\\cr}");
+        error(0, "\\align{#&#&#&#&#&#\\cr}");
+        error(6, "\\align{#\\cr a\\cr a&b\\cr}");
+        due("steps", of("\\align{#\\cr a\\cr a&b\\cr}").steps(), 3);
+        signs("aab", -1, "\\setbox0\\vbox{\\align{a#\\cr\\hbox{a}b\\cr}}");
+        error(8, "\\let\\g=}\\align{#\\cr\\g\\cr}");
+        error(9, "\\let\\g={\\align{#\\cr\\g\\cr}");
+    }
+
+    private static void paragraphs() {
+        due("paragraphs", of("a\\par\\par b").paragraphs(), 2);
+        due("paragraphs", of("\\hskip5 \\par").paragraphs(), 0);
+        due("paragraphs", of("\\hskip5 \\kern1 \\par").paragraphs(), 1);
+        due("paragraphs", of("\\hbox{a}").paragraphs(), 0);
+        due("paragraphs", of("\\vbox{a}").paragraphs(), 1);
+        due("paragraphs", of("\\vbox{a").paragraphs(), 0);
+        due("paragraphs", of("a\\par\\x").paragraphs(), 1);
+        due("paragraphs", of("{a").paragraphs(), 1);
+        due("paragraphs", of("a\\vskip1 b\\align{#\\cr}").paragraphs(), 2);
+        paragraph("aaa", 0, 1, 100, 100);
+        kinds("221100064", 0, "aaa");
+        kinds("221100064", 0, "aaa ");
+        item("aaa", 0, 8, 4, 0, 0, 0, 60, 3);
+        String two = "\\hsize40 aaa bbb";
+        paragraph(two, 0, 2, 200, 200);
+        kinds("22" + "11000" + "6" + "4" + "1000" + "64", 0, two);
+        kinds("2" + "11000" + "86" + "4" + "1000" + "64" + "9", -1, "\\setbox0\\vbox{\\hsize40 a\\mark{}aa bbb\\insert{}}");
+        // marks behind the break belong to the next line
+        paragraph("\\hsize40 aaa\\penalty-10000 \\mark{}\\hskip1 bbb", 0, 2, 200, 200);
+        paragraph("\\hsize40 \\linepen-5 aaa bbb", 0, 2, 50, 50);
+        // a penalty of 7 adds its square, one of -7 takes it off
+        paragraph("\\hsize40 aaa\\penalty7 bbb", 0, 2, 249, 249);
+        paragraph("\\hsize40 aaa\\penalty-7 bbb", 0, 2, 151, 151);
+        paragraph("\\hsize40 aaa\\penalty-10000 bbb", 0, 2, 200, 200);
+        // a line with the badness 10000 and fitness 3 behind nothing, and one of fitness 1: 3000 more
+        paragraph("a\\penalty-10000 b", 0, 2, 10010L * 10010 + 100 + 3000, 10010L * 10010 + 100 + 3000);
+        String word = "\\patterns{b1c}\\hsize31 abcde";
+        paragraph(word, 0, 2, 2700, 2700);
+        kinds("22" + "11000" + "6" + "4" + "1000" + "64", 0, word);
+        signs("ab-cde", 0, word);
+        paragraph(word.replace("31 abcde", "30 ABCDE"), 0, 2, 2700, 2700);
+        paragraph("\\hsize31 ab\\-cde", 0, 2, 2700, 2700);
+        paragraph("\\hsize31 abcde", 0, 1, 10010L * 10010, 10010L * 10010);
+        paragraph("\\patterns{b1c b2c}\\hsize31 abcde", 0, 1, 10010L * 10010, 10010L * 10010);
+        paragraph("\\patterns{b1c b2c .ab3cde.}\\hsize31 abcde", 0, 2, 2700, 2700);
+        paragraph("\\patterns{b13c b2c}\\hsize31 abcde", 0, 2, 2700, 2700);
+        paragraph("\\patterns{1a a1b c1d d1e}\\hsize31 abcde", 0, 1, 10010L * 10010, 10010L * 10010);
+        paragraph("\\patterns{b1c}\\hsize31 abcd", 0, 1, 10010L * 10010, 10010L * 10010);
+        paragraph("{\\patterns{b1c}}\\hsize31 abcde", 0, 2, 2700, 2700);
+        // hyphens are not tried as long as there is a row of lines without them
+        kinds("22110000064", 0, "\\patterns{b1c}abcde");
+        // \\loose: 1, 2 and 3 lines can be
+        String loose = "\\tol10000 a a a";
+        paragraph(loose, 0, 1, 100, 100);
+        due("lines", of("\\loose1 " + loose).lines(0), 2);
+        due("lines", of("\\loose2 " + loose).lines(0), 3);
+        due("lines", of("\\loose9 " + loose).lines(0), 3);
+        due("lines", of("\\loose-9 " + loose).lines(0), 1);
+        due("demerits", of("\\loose2 " + loose).demeritsByTrying(0), of("\\loose2 " + loose).demerits(0));
+        String twelve = "a" + times(12, " a");
+        due("by trying", of("\\hsize1000 " + twelve).demeritsByTrying(0), 100);
+        due("by trying", of("\\hsize1000 " + twelve + " a").demeritsByTrying(0), Catcodia.NONE);
+        due("demerits", of("\\hsize1000 " + twelve + " a").demerits(0), 100);
+        refused("lines 1", IndexOutOfBoundsException.class, () -> of("a").lines(1));
+        refused("lines -1", IndexOutOfBoundsException.class, () -> of("a").lines(-1));
+        refused("demerits 1", IndexOutOfBoundsException.class, () -> of("a").demerits(1));
+        refused("demerits -1", IndexOutOfBoundsException.class, () -> of("a").demerits(-1));
+        refused("by trying 1", IndexOutOfBoundsException.class, () -> of("a").demeritsByTrying(1));
+        refused("by trying -1", IndexOutOfBoundsException.class, () -> of("a").demeritsByTrying(-1));
+    }
+
     public static void main(String[] args) {
+        pages();
+        boxes();
+        paragraphs();
         aNewObject();
         feed();
         cut();
