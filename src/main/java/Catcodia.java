@@ -665,7 +665,7 @@ public final class Catcodia {
         }
 
         /** The next token that is not EXPANDABLE. */
-        int next() {
+        private int next() {
             for (int i = 0; i < FAR; i++) {
                 int t = tokens.next();
                 if (t == END || tokens.held) return t;
@@ -677,7 +677,7 @@ public final class Catcodia {
         }
 
         /** The next one that is no BLANK; it has to come. */
-        int needed() {
+        private int needed() {
             for (int i = 0; i < FAR; i++) {
                 int t = next();
                 if (t == END) state.fail(2);
@@ -965,7 +965,7 @@ public final class Catcodia {
         // ---- numbers and glue
 
         /** A GLUE, whose parts are then told by measure, or a NUMBER. */
-        int amount(boolean glue) {
+        private int amount(boolean glue) {
             enter();
             int sign = 1;
             int t = needed();
@@ -1006,7 +1006,7 @@ public final class Catcodia {
         }
 
         /** Whether a keyword comes; what was read of one that does not come stays to be read. */
-        boolean keyword(String name) {
+        private boolean keyword(String name) {
             int blanks = 0;
             int t = next();
             while (t == SPACE && blanks < FAR) {
@@ -1060,14 +1060,14 @@ public final class Catcodia {
         }
 
         /** The NUMBER of a register or box. */
-        int index() {
+        private int index() {
             int i = amount(false);
             if (i < 0 || i > 9) state.fail(6);
             return i;
         }
 
         /** The NUMBER of a code. */
-        int codeIndex() {
+        private int codeIndex() {
             int i = amount(false);
             if (i < 1 || i > 127) state.fail(6);
             return i;
@@ -1355,7 +1355,8 @@ public final class Catcodia {
                 else addDown(sums, id);
                 width = Math.max(width, part(id, WIDTH));
                 height = Math.max(height, part(id, HEIGHT));
-                depth = kind == HBOX ? Math.max(depth, part(id, DEPTH)) : isSolid(id) ? Math.max(0, part(id, DEPTH)) : 0;
+                int own = Math.max(0, part(id, DEPTH));
+                depth = kind == HBOX ? Math.max(depth, own) : own;
             }
             long natural = kind == HBOX ? sums[0] : sums[0] - depth;
             long wanted = spec == TO ? told : spec == SPREAD ? natural + told : natural;
@@ -1673,9 +1674,9 @@ public final class Catcodia {
         /** For such a line 4 times its badness and its fitness, -1 if there is none. */
         private final int[] shape = new int[SIDE * SIDE];
         private final long[] sums = new long[9];
-        /** For a place and the fitness of the line that ends there: the least sum behind it, its lines, its next place. */
-        private final long[] least5 = new long[SIDE * 5];
-        private final int[] count5 = new int[SIDE * 5];
+        /** For a place and the fitness of the line that ends there: the least sum behind it, and its lines. */
+        private final long[] leastSum = new long[SIDE * 5];
+        private final int[] leastCount = new int[SIDE * 5];
         private long[] exact = new long[0];
         private final int[] chosen = new int[SIDE];
         final Row lineCounts = new Row(16);
@@ -1725,7 +1726,7 @@ public final class Catcodia {
                     solve(limit);
                 }
             }
-            int lines = state.value[LOOSE] == 0 ? count5[4] : solveLoosely(limit);
+            int lines = state.value[LOOSE] == 0 ? leastCount[4] : solveLoosely(limit);
             choose(lines, state.value[LOOSE] != 0, limit);
             record(lines, limit);
             deliver(hyphened ? spare : row, lines);
@@ -1815,18 +1816,18 @@ public final class Catcodia {
                         int line = p * SIDE + q;
                         int behind = q * 5 + (shape[line] & 3);
                         if (shape[line] < 0 || shape[line] / 4 > limit) continue;
-                        if (q <= places && least5[behind] == FAR_OFF) continue;
-                        long sum = costBehind(line, fit) + (q > places ? 0 : least5[behind]);
-                        int count = 1 + (q > places ? 0 : count5[behind]);
+                        if (q <= places && leastSum[behind] == FAR_OFF) continue;
+                        long sum = costBehind(line, fit) + (q > places ? 0 : leastSum[behind]);
+                        int count = 1 + (q > places ? 0 : leastCount[behind]);
                         if (sum > best || sum == best && best != FAR_OFF && count > bestCount) continue;
                         best = sum;
                         bestCount = count;
                     }
-                    least5[p * 5 + fit] = best;
-                    count5[p * 5 + fit] = bestCount;
+                    leastSum[p * 5 + fit] = best;
+                    leastCount[p * 5 + fit] = bestCount;
                 }
             }
-            return least5[4] != FAR_OFF;
+            return leastSum[4] != FAR_OFF;
         }
 
         private int at(int lines, int p, int fit) {
@@ -1840,15 +1841,18 @@ public final class Catcodia {
                 for (int p = places; p >= 0; p--) {
                     for (int fit = p == 0 ? 4 : 0; fit < (p == 0 ? 5 : 4); fit++) {
                         long best = FAR_OFF;
-                        for (int q = p + 1; q <= places + 1; q++) best = Math.min(best, sumOver(lines, p, fit, q, limit));
+                        for (int q = p + 1; q <= places + 1; q++) {
+                            best = Math.min(best, sumOver(lines, p, fit, q, limit));
+                        }
                         exact[at(lines, p, fit)] = best;
                     }
                 }
             }
-            long target = (long) count5[4] + state.value[LOOSE];
-            int taken = count5[4];
+            long target = (long) leastCount[4] + state.value[LOOSE];
+            int taken = leastCount[4];
             for (int lines = places + 1; lines > 0; lines--) {
-                if (exact[at(lines, 0, 4)] != FAR_OFF && Math.abs(lines - target) <= Math.abs(taken - target)) taken = lines;
+                if (exact[at(lines, 0, 4)] == FAR_OFF) continue;
+                if (Math.abs(lines - target) <= Math.abs(taken - target)) taken = lines;
             }
             return taken;
         }
@@ -1865,16 +1869,16 @@ public final class Catcodia {
         private void choose(int lines, boolean loosely, int limit) {
             int p = 0;
             int fit = 4;
-            long sum = loosely ? exact[at(lines, 0, 4)] : least5[4];
+            long sum = loosely ? exact[at(lines, 0, 4)] : leastSum[4];
             for (int k = 1; k <= lines; k++) {
                 int left = lines - k;
                 for (int q = places + 1; q > p; q--) {
                     int line = p * SIDE + q;
                     if (shape[line] < 0 || shape[line] / 4 > limit || left == 0 != q > places) continue;
                     int behind = q * 5 + (shape[line] & 3);
-                    long rest = left == 0 ? 0 : loosely ? exact[at(left, q, shape[line] & 3)] : least5[behind];
+                    long rest = left == 0 ? 0 : loosely ? exact[at(left, q, shape[line] & 3)] : leastSum[behind];
                     if (rest == FAR_OFF || rest + costBehind(line, fit) != sum) continue;
-                    if (left > 0 && !loosely && count5[behind] != left) continue;
+                    if (left > 0 && !loosely && leastCount[behind] != left) continue;
                     chosen[k] = q;
                     fit = shape[line] & 3;
                     p = q;
@@ -2066,8 +2070,8 @@ public final class Catcodia {
             int kind = items.kind(id);
             if (!solid && (kind == GLUE || kind == KERN || kind == PENALTY)) return -1;
             int penalty = kind == PENALTY ? items.part(id, NUMBER) : 0;
-            boolean can = kind == PENALTY && penalty < 10000 || kind == GLUE
-                && (previous == HBOX || previous == VBOX || previous == RULE || previous == MARK || previous == INSERTION);
+            boolean holds = previous >= HBOX && previous <= RULE || previous == MARK || previous == INSERTION;
+            boolean can = kind == PENALTY && penalty < 10000 || kind == GLUE && holds;
             if (can) {
                 int bad = badness();
                 if (penalty <= -10000) return list.n;
