@@ -1229,7 +1229,7 @@ public final class Catcodia {
 
         // ---- making items
 
-        private int make(int kind, int number) {
+        int make(int kind, int number) {
             if ((count + 1) * PARTS > part.length) part = Arrays.copyOf(part, 2 * part.length);
             int at = count * PARTS;
             Arrays.fill(part, at, at + PARTS, 0);
@@ -1238,10 +1238,6 @@ public final class Catcodia {
             part[at + WHOLE] = 1;
             count++;
             return count - 1;
-        }
-
-        int simple(int kind, int number) {
-            return make(kind, number);
         }
 
         int glue(int measure, int box) {
@@ -2639,14 +2635,14 @@ public final class Catcodia {
                     expander.amount(true);
                     nest.append(items.glue(items.measure(expander.measure), 0));
                     break;
-                case C_KERN: nest.append(items.simple(KERN, expander.amount(false))); break;
+                case C_KERN: nest.append(items.make(KERN, expander.amount(false))); break;
                 case C_PENALTY:
-                    nest.append(items.simple(PENALTY, Math.max(-10000, Math.min(10000, expander.amount(false)))));
+                    nest.append(items.make(PENALTY, Math.max(-10000, Math.min(10000, expander.amount(false)))));
                     break;
                 case C_RULE: typesetRule(); break;
                 case C_MARK:
                     expander.brace();
-                    nest.append(items.simple(MARK, expander.expandedList()));
+                    nest.append(items.make(MARK, expander.expandedList()));
                     break;
                 case C_HYPHEN:
                     if (nest.isUpright()) state.fail(7);
