@@ -1259,6 +1259,20 @@ public final class Catcodia {
             return Math.max(0, state.value[BASE] - part(above, DEPTH) - part(below, HEIGHT));
         }
 
+        /** A box that is made when it comes to the page, as wide as told, if the spec is TO. */
+        int promise(int first, int size, int spec, int told) {
+            int id = make(HBOX, told);
+            part[id * PARTS + FIRST] = first;
+            part[id * PARTS + SIZE] = size;
+            part[id * PARTS + ORDER] = spec;
+            return id;
+        }
+
+        /** Makes a box that was promised. */
+        int redeem(int id) {
+            return pack(HBOX, part(id, FIRST), part(id, SIZE), part(id, ORDER), part(id, NUMBER));
+        }
+
         int insertion(int first, int size) {
             int id = make(INSERTION, 0);
             part[id * PARTS + FIRST] = first;
@@ -1512,10 +1526,15 @@ public final class Catcodia {
             append(id);
         }
 
+        /** A line or a row of an alignment comes to the page; it is made when those ahead have been looked at. */
+        void promise(int first, int size, int spec, int told) {
+            page.arrived.add(items.promise(first, size, spec, told) | Page.PROMISED);
+        }
+
         /** The last box or rule of the list, if it is a box, otherwise 0. */
         private int boxAbove() {
             for (int i = build.n - 1; i >= begun[levels]; i--) {
-                int id = build.get(i);
+                int id = build.a[i];
                 if (items.isSolid(id)) return items.isBox(id) ? id : 0;
             }
             return 0;
@@ -1934,7 +1953,9 @@ public final class Catcodia {
                 int q = chosen[k];
                 int first = items.list.n;
                 collect(list, p, q);
-                nest.appendBox(items.pack(HBOX, first, items.list.n - first, TO, hsize));
+                int size = items.list.n - first;
+                if (nest.mode() == VERTICAL) nest.promise(first, size, TO, hsize);
+                else nest.appendBox(items.pack(HBOX, first, size, TO, hsize));
                 for (int i = place[p] + 1; i < place[q]; i++) {
                     int kind = items.kind(list.get(i));
                     if (kind == MARK || kind == INSERTION) nest.append(list.get(i));
@@ -1961,6 +1982,8 @@ public final class Catcodia {
     private static final class Page {
         /** Tells that the box comes with glue ahead of it, if there is a box above. */
         static final int WITH_GLUE = 1 << 30;
+        /** Tells likewise of a box that has to be made yet. */
+        static final int PROMISED = 1 << 30 | 1 << 29;
 
         private final State state;
         private final Tokens tokens;
@@ -2036,7 +2059,9 @@ public final class Catcodia {
                 }
             }
             if ((id & WITH_GLUE) != 0) {
-                id &= ~WITH_GLUE;
+                boolean promised = (id & PROMISED) == PROMISED;
+                id &= ~PROMISED;
+                if (promised) id = items.redeem(id);
                 int above = boxAbove();
                 if (above != 0) {
                     waiting.add(id);
@@ -2318,7 +2343,8 @@ public final class Catcodia {
                 } while (i < count && (cells.get(i) & FIRST_OF_ROW) == 0);
                 int begin = items.list.n;
                 for (int k = 0; k < boxes.n; k++) items.list.add(boxes.get(k));
-                nest.appendBox(items.pack(HBOX, begin, boxes.n, NATURAL, 0));
+                if (nest.mode() == VERTICAL) nest.promise(begin, boxes.n, NATURAL, 0);
+                else nest.appendBox(items.pack(HBOX, begin, boxes.n, NATURAL, 0));
             }
             cells.n = first;
             at -= STRIDE;

@@ -648,6 +648,11 @@ public final class CatcodiaTest {
         paragraph("\\patterns{1a a1b c1d d1e}\\hsize31 abcde", 0, 1, 10010L * 10010, 10010L * 10010);
         paragraph("\\patterns{b1c}\\hsize31 abcd", 0, 1, 10010L * 10010, 10010L * 10010);
         paragraph("{\\patterns{b1c}}\\hsize31 abcde", 0, 2, 2700, 2700);
+        // the third line is made when the first two have been looked at
+        String late = "\\vsize7 \\hsize40 \\base0 aaa\\penalty-10000 bbb\\penalty-10000 c\\kern1000000 \\kern1 c";
+        error(5, late);
+        due("pages", of(late).pages(), 1);
+        due("paragraphs", of(late).paragraphs(), 1);
         // hyphens are not tried as long as there is a row of lines without them
         kinds("22110000064", 0, "\\patterns{b1c}abcde");
         // \\loose: 1, 2 and 3 lines can be
