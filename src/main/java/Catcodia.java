@@ -803,7 +803,9 @@ public final class Catcodia {
                     got.n -= size;
                     return;
                 }
-                if (got.n - first > MOST_TOKENS && got.n - first - begun(first, tail, size) > MOST_TOKENS) {
+                // within an OPEN no TAIL begins, and its CLOSE has to come yet
+                int least = got.n - first + depth;
+                if (least > MOST_TOKENS && (depth > 0 || least - begun(first, tail, size) > MOST_TOKENS)) {
                     state.fail(10);
                 }
             }
@@ -2247,15 +2249,16 @@ public final class Catcodia {
             while (columns <= MOST_COLUMNS) {
                 if (columns == MOST_COLUMNS) state.fail(6);
                 stop = partEnd(begin, end);
+                if (stop >= end) state.fail(6);
                 int part = at + TEMPLATE + 3 * columns;
                 data[part] = begin;
                 data[part + 1] = slot(begin, stop);
                 data[part + 2] = stop;
                 columns++;
-                if (stop >= end || tokens.pool.get(stop) == CR) break;
+                if (tokens.pool.get(stop) == CR) break;
                 begin = stop + 1;
             }
-            data[at + CURSOR] = stop < end ? stop + 1 : end;
+            data[at + CURSOR] = stop + 1;
             data[at + LAST] = end;
             data[at + COLUMNS] = columns;
             data[at + COLUMN] = 0;

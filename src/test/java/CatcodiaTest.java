@@ -281,6 +281,18 @@ public final class CatcodiaTest {
         error(0, ten + "\\edef\\d{\\c}\\def\\e#1..{}\\expandafter\\e\\d..");
         error(2, ten + "\\edef\\d{\\c}\\def\\e#1..{}\\expandafter\\e\\d.");
         error(10, ten + "\\edef\\d{\\c}\\def\\e#1..{}\\expandafter\\e\\d.x");
+        // within an OPEN no TAIL begins, and its CLOSE is one more token: 2 and 598 of them are the most
+        String most = "\\def\\b#1{#1#1#1#1#1#1#1#1#1#1}\\edef\\m{\\b{\\b{xxxxx}}\\b{xxxxxxxxx}xxxxxxxx}\\def\\q#1ab{}"
+            + "\\def\\z{\\expandafter\\q\\expandafter}";
+        error(0, most + "\\z{\\m}ab");
+        error(2, most + "\\z{\\m}a");
+        error(10, most + "\\z{\\m}aa");
+        error(10, most + "\\z{\\m}{");
+        error(2, most + "\\z{\\m");
+        error(10, most + "\\z{\\m x");
+        error(10, most + "\\z{\\m x}ab");
+        error(10, most + "\\z{\\m xa");
+        error(10, most + "\\z{\\m {");
         String box = "\\setbox0\\hbox{aaaaaaaaa}\\setbox0\\hbox{" + times(11, "\\copy0") + "}";
         // 10 and 1 + 11 * 10 = 111; 18 * 111 = 1998, with the box itself 1999
         items(1999, -1, box + "\\setbox0\\hbox{" + times(18, "\\copy0") + "}");
@@ -599,6 +611,14 @@ public final class CatcodiaTest {
         item(align, -1, 6, 4, 0, 0, 0, 17, 3);
         error(6, "\\align{a\\cr}");
         error(6, "\\align{##\\cr}");
+        // without the NAME cr outside of { and } there is no TEMPLATE
+        error(6, "\\align{#}");
+        error(6, "\\align{#x&#}");
+        error(6, "\\align{#{\\cr}}");
+        error(6, "\\let\\r\\cr\\align{#\\r}");
+        error(6, "\\align{}");
+        error(0, "\\let\\cr\\relax\\align{#\\cr}");
+        error(0, "\\align{#\\cr }");
         error(6, "\\align{#&#&#&#&#&#&#\\cr}");
         error(0, "\\align{#&#&#&#&#&#\\cr}");
         error(6, "\\align{#\\cr a\\cr a&b\\cr}");
