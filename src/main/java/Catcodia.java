@@ -2049,28 +2049,7 @@ public final class Catcodia {
 
         /** Looks at one item. */
         void work() {
-            int id;
-            if (waiting.n > 0) {
-                id = waiting.take();
-            } else {
-                id = arrived.get(given);
-                given++;
-                if (given == arrived.n) {
-                    given = 0;
-                    arrived.n = 0;
-                }
-            }
-            if ((id & WITH_GLUE) != 0) {
-                boolean promised = (id & PROMISED) == PROMISED;
-                id &= ~PROMISED;
-                if (promised) id = items.redeem(id);
-                int above = boxAbove();
-                if (above != 0) {
-                    waiting.add(id);
-                    waiting.add(items.glue(items.rigid(items.room(above, id)), 0));
-                    return;
-                }
-            }
+            int id = waiting.n > 0 ? waiting.take() : come();
             if (items.kind(id) == INSERTION) {
                 takeIn(id);
                 previous = INSERTION;
@@ -2078,6 +2057,27 @@ public final class Catcodia {
             }
             int place = look(id);
             if (place >= 0) breakAt(place, place == list.n ? 0 : id);
+        }
+
+        /** The next item that comes; a box with glue ahead of it comes when this has been looked at. */
+        private int come() {
+            int id = arrived.get(given);
+            if ((id & WITH_GLUE) != 0) {
+                boolean promised = (id & PROMISED) == PROMISED;
+                id &= ~PROMISED;
+                if (promised) id = items.redeem(id);
+                int above = boxAbove();
+                if (above != 0) {
+                    arrived.set(given, id);
+                    return items.glue(items.rigid(items.room(above, id)), 0);
+                }
+            }
+            given++;
+            if (given == arrived.n) {
+                given = 0;
+                arrived.n = 0;
+            }
+            return id;
         }
 
         private int boxAbove() {

@@ -299,6 +299,17 @@ public final class CatcodiaTest {
         items(2000, -1, box + "\\setbox0\\hbox{a" + times(18, "\\copy0") + "}");
         error(10, box + "\\setbox0\\hbox{aa" + times(18, "\\copy0") + "}");
         error(10, box + "\\setbox0\\hbox to 1000000{\\kern1000000 aa" + times(18, "\\copy0") + "}");
+        // a box, a penalty and 1998 more are on the page; the glue that breaks it and the box behind that come anew
+        String full = "\\def\\t#1{#1#1#1#1#1#1#1#1#1#1}\\def\\k{\\kern0 }\\setbox0\\vbox{\\t{\\t\\k}\\t\\k}"
+            + "\\def\\c{\\setbox1\\copy0\\pour1 }\\vsize20 \\output{\\shipout\\box9 \\ifnum\\count0=0 \\hbox{x}"
+            + "\\penalty0 \\!\\fi\\global\\count0=1 }\\hbox{a}\\penalty0 \\t\\c" + times(8, "\\c") + "\\t\\k";
+        String behind = times(6, "\\k") + "\\kern30 \\mark{}\\hbox{b}";
+        error(0, full.replace("\\!", "") + behind);
+        due("pages", of(full.replace("\\!", "") + behind).pages(), 3);
+        error(10, full.replace("\\!", "\\k") + behind);
+        due("pages", of(full.replace("\\!", "\\k") + behind).pages(), 1);
+        due("pages", of(full.replace("\\!", "") + "\\k" + behind).pages(), 0);
+        error(10, full.replace("\\!", "") + "\\k" + behind);
         error(0, times(1, "a") + times(40, " a"));
         error(10, times(1, "a") + times(41, " a"));
         String pages = "\\def\\a{\\hbox{a}\\penalty-10000 }";
