@@ -16,6 +16,19 @@ public final class Catcodia {
     /** The bound of loops for which the document tells none. */
     private static final int FAR = 2000000;
 
+    // ---- how far rows can grow: all that is made counts, so each is made for the most that a run can need
+
+    /** Tokens: what a step, or a page with its \\output, puts ahead is 601 of them at most, beside the document. */
+    private static final int MOST_COME = 601 * (MOST_STEPS + MOST_PAGES) + 2 * MOST_SIGNS;
+    /** Patterns: 600 tokens take the step of \\patterns and another one that puts them ahead. */
+    private static final int MOST_PATTERNS = 601 * (MOST_STEPS / 2) + 2 * MOST_SIGNS;
+    /** Items: a line, some 6300 at most, needs a step or something poured, and makes three; so does a step. */
+    private static final int MOST_MADE = 40000;
+    /** Items of finished lists: those of boxes 8 and 9 for each page, and as many others, with room to spare. */
+    private static final int MOST_LISTED = 4 * MOST_ITEMS * MOST_PAGES;
+    /** What is made for each step, or for what is poured. */
+    private static final int MOST_KEPT = 8192;
+
     // ---- classes of codes
 
     private static final int ESCAPE = 0, OPEN = 1, CLOSE = 2, PARAMETER = 3, BLANK = 4, LETTER = 5, OTHER = 6,
@@ -78,6 +91,8 @@ public final class Catcodia {
 
     private static final int KIND = 0, WIDTH = 1, HEIGHT = 2, DEPTH = 3, NUMBER = 4, FIRST = 5, SIZE = 6, EXCESS = 7,
         ORDER = 8, TOTAL = 9, WHOLE = 10, PARTS = 11;
+    /** Of an insertion alone, which has no order: whether it was left of another one. */
+    private static final int IS_REST = 8;
 
     private final int[] document = new int[MOST_SIGNS];
     private int length;
@@ -195,17 +210,19 @@ public final class Catcodia {
         return engine.lines.least;
     }
 
-    /** A row of numbers that grows. */
+    /** A row of numbers that grows, in few steps, up to its bound. */
     private static final class Row {
+        private final int most;
         int[] a;
         int n;
 
-        Row(int room) {
+        Row(int room, int most) {
+            this.most = most;
             a = new int[room > 1 ? room : 1];
         }
 
         void add(int x) {
-            if (n >= a.length) a = Arrays.copyOf(a, 2 * a.length);
+            if (n >= a.length) a = Arrays.copyOf(a, Math.max(a.length < most / 16 ? most / 16 : most, 2 * a.length));
             a[n] = x;
             n++;
         }
@@ -230,7 +247,7 @@ public final class Catcodia {
     private static final class State {
         final int[] value = new int[NAMES + MOST_NAMES];
         private final int[] level = new int[NAMES + MOST_NAMES];
-        private final Row saved = new Row(96);
+        private final Row saved = new Row(96, MOST_KEPT);
         private final int[] begun = new int[MOST_GROUPS];
         int groups;
         int error;
@@ -316,16 +333,18 @@ public final class Catcodia {
     /** NAMEs, lists of tokens, macros, and the tokens that come. */
     private static final class Tokens {
         private final State state;
-        private int[] text = new int[1024];
+        /** The signs of all NAMEs, one behind the other. */
+        private int[] text = new int[4096];
         private final int[] nameAt = new int[MOST_NAMES + 1];
         private final int[] chain = new int[MOST_NAMES];
         private final int[] head = new int[256];
         private final int[] firstHead = new int[256];
         private int names;
-        final Row pool = new Row(512);
-        private final Row lists = new Row(64);
-        private final Row macros = new Row(48);
-        final Row pending = new Row(256);
+        /** The tokens of lists that are kept; behind them those of a list, or the signs of a NAME, that comes. */
+        final Row pool = new Row(2048, MOST_COME);
+        private final Row lists = new Row(64, MOST_KEPT);
+        private final Row macros = new Row(48, MOST_KEPT);
+        final Row pending = new Row(2048, MOST_COME);
         private int[] document = new int[1];
         private int length;
         private int at;
@@ -397,7 +416,7 @@ public final class Catcodia {
             if (names >= MOST_NAMES) return C_RELAX;
             int written = nameAt[names];
             int size = end - start;
-            if (written + size > text.length) text = Arrays.copyOf(text, 2 * (written + size));
+            if (written + size > text.length) text = Arrays.copyOf(text, Math.max(MOST_COME, 2 * (written + size)));
             System.arraycopy(from, start, text, written, size);
             id = names;
             names++;
@@ -638,11 +657,12 @@ public final class Catcodia {
         /** How many NUMBERs and expansions are begun and not ended. */
         private int within;
         /** For each conditional that is begun, 1 behind its \else. */
-        final Row conditions = new Row(32);
-        private final Row got = new Row(256);
+        final Row conditions = new Row(32, MOST_KEPT);
+        private final Row got = new Row(256, MOST_KEPT);
         private final int[] gotFrom = new int[10];
         private final int[] gotTo = new int[10];
-        private final Row letters = new Row(64);
+        /** For each beginning of a TAIL that came: the longest shorter one with which it ends. */
+        private final Row falls = new Row(16, MOST_COME / 2);
         private final int[] word = new int[8];
         /** The GLUE that was read last: its natural part, its stretch and the order of that, its shrink likewise. */
         final int[] measure = new int[5];
@@ -656,7 +676,6 @@ public final class Catcodia {
         void reset() {
             within = 0;
             conditions.n = 0;
-            letters.n = 0;
         }
 
         private void enter() {
@@ -782,15 +801,17 @@ public final class Catcodia {
                 }
                 if (kind == OPEN) depth++;
                 if (kind == OPEN && depth == 1) continue;
-                if (got.n - first >= MOST_TOKENS) state.fail(10);
-                got.add(t);
+                addGot(t, first);
                 if (depth == 0) return;
             }
         }
 
+        /** Reads up to a TAIL, whose tokens are in the pool; what has come of it is not got as long as it may be it. */
         private void readUpTo(int tail, int size) {
             int first = got.n;
             int depth = 0;
+            int matched = 0;
+            falls.n = 0;
             for (int i = 0; i < FAR; i++) {
                 int t = tokens.next();
                 if (t == END) state.fail(2);
@@ -798,31 +819,35 @@ public final class Catcodia {
                 if (kind == CLOSE && depth == 0) state.fail(8);
                 if (kind == CLOSE) depth--;
                 if (kind == OPEN) depth++;
-                got.add(t);
-                if (depth == 0 && t == tokens.pool.get(tail + size - 1) && endsWith(first, tail, size)) {
-                    got.n -= size;
-                    return;
+                while (matched > 0 && t != tokens.pool.get(tail + matched)) {
+                    int shorter = falls.get(matched - 1);
+                    for (int k = 0; k < matched - shorter; k++) addGot(tokens.pool.get(tail + k), first);
+                    matched = shorter;
+                }
+                if (depth == 0 && t == tokens.pool.get(tail + matched)) {
+                    matched++;
+                    if (matched == size) return;
+                    if (falls.n < matched) falls.add(fallBack(tail, matched));
+                } else {
+                    addGot(t, first);
                 }
                 // within an OPEN no TAIL begins, and its CLOSE has to come yet
-                int least = got.n - first + depth;
-                if (least > MOST_TOKENS && (depth > 0 || least - begun(first, tail, size) > MOST_TOKENS)) {
-                    state.fail(10);
-                }
+                if (got.n - first + depth > MOST_TOKENS) state.fail(10);
             }
         }
 
-        /** Whether what was got from first on ends with so many tokens of a tail; this has no OPEN and CLOSE. */
-        private boolean endsWith(int first, int tail, int size) {
-            int start = got.n - size;
-            if (start < first) return false;
-            for (int i = 0; i < size; i++) if (got.a[start + i] != tokens.pool.a[tail + i]) return false;
-            return true;
+        private void addGot(int t, int first) {
+            if (got.n - first >= MOST_TOKENS) state.fail(10);
+            got.add(t);
         }
 
-        /** How many tokens of a tail may have come already. */
-        private int begun(int first, int tail, int size) {
-            for (int n = size - 1; n > 0; n--) if (endsWith(first, tail, n)) return n;
-            return 0;
+        /** The longest beginning of a TAIL with which a longer one, of so many tokens, ends. */
+        private int fallBack(int tail, int many) {
+            if (many < 2) return 0;
+            int last = tokens.pool.get(tail + many - 1);
+            int n = falls.get(many - 2);
+            while (n > 0 && tokens.pool.get(tail + n) != last) n = falls.get(n - 1);
+            return tokens.pool.get(tail + n) == last ? n + 1 : 0;
         }
 
         private void putBody(int body) {
@@ -863,17 +888,17 @@ public final class Catcodia {
         }
 
         private void makeName() {
-            int first = letters.n;
+            int first = tokens.pool.n;
             for (int i = 0; i < FAR; i++) {
                 int t = next();
                 if (t == END) state.fail(2);
                 if (t == FENCE) state.fail(9);
                 if (tokens.command(t) == C_ENDCSNAME) break;
                 if ((t & NAME) != 0) state.fail(6);
-                letters.add(t & 127);
+                tokens.pool.add(t & 127);
             }
-            int id = tokens.intern(letters.a, first, letters.n);
-            letters.n = first;
+            int id = tokens.intern(tokens.pool.a, first, tokens.pool.n);
+            tokens.pool.n = first;
             if (state.value[NAMES + id] == 0) state.set(NAMES + id, IS_COMMAND << 16 | C_RELAX, false);
             tokens.pending.add(NAME | id);
         }
@@ -1142,8 +1167,8 @@ public final class Catcodia {
         private int[] part = new int[512 * PARTS];
         private int count;
         /** The items of finished lists. */
-        final Row list = new Row(512);
-        private final Row glues = new Row(80);
+        final Row list = new Row(512, MOST_LISTED);
+        private final Row glues = new Row(80, 10 * MOST_KEPT);
         private final long[] sums = new long[9];
 
         Items(State state) {
@@ -1232,7 +1257,10 @@ public final class Catcodia {
         // ---- making items
 
         int make(int kind, int number) {
-            if ((count + 1) * PARTS > part.length) part = Arrays.copyOf(part, 2 * part.length);
+            int room = part.length;
+            if ((count + 1) * PARTS > room) {
+                part = Arrays.copyOf(part, Math.max(room < MOST_MADE ? MOST_MADE : MOST_MADE * PARTS, 2 * room));
+            }
             int at = count * PARTS;
             Arrays.fill(part, at, at + PARTS, 0);
             part[at + KIND] = kind;
@@ -1280,6 +1308,18 @@ public final class Catcodia {
             part[id * PARTS + FIRST] = first;
             part[id * PARTS + SIZE] = size;
             return id;
+        }
+
+        /** An insertion without its first items; one that was left of another one is in no box, and is changed. */
+        int rest(int id, int without) {
+            if (without == 0) return id;
+            int first = part(id, FIRST) + without;
+            int size = part(id, SIZE) - without;
+            int rest = part(id, IS_REST) != 0 ? id : make(INSERTION, 0);
+            part[rest * PARTS + IS_REST] = 1;
+            part[rest * PARTS + FIRST] = first;
+            part[rest * PARTS + SIZE] = size;
+            return rest;
         }
 
         int raised(int box, int by) {
@@ -1343,11 +1383,19 @@ public final class Catcodia {
             return bad > 10000 ? 10000 : (int) bad;
         }
 
+        /** How high and deep an item of a vertical list is. */
+        long down(int id) {
+            int kind = kind(id);
+            if (kind == KERN) return part(id, NUMBER);
+            if (kind == GLUE) return gluePart(part(id, NUMBER), 0);
+            return kind <= RULE ? (long) part(id, HEIGHT) + part(id, DEPTH) : 0;
+        }
+
         /** How high and deep so many items of a list are together. */
         long extent(int first, int size) {
-            Arrays.fill(sums, 0L);
-            for (int i = 0; i < size; i++) addDown(sums, list.get(first + i));
-            return sums[0];
+            long sum = 0;
+            for (int i = 0; i < size; i++) sum += down(list.get(first + i));
+            return sum;
         }
 
         // ---- boxes
@@ -1456,7 +1504,7 @@ public final class Catcodia {
         private final State state;
         private final Items items;
         private final Page page;
-        private final Row build = new Row(256);
+        private final Row build = new Row(256, 4 * MOST_KEPT);
         private final int[] modes = new int[2 * MOST_GROUPS + 8];
         private final int[] begun = new int[2 * MOST_GROUPS + 8];
         int levels;
@@ -1549,9 +1597,9 @@ public final class Catcodia {
         private final Tokens tokens;
         private final Items items;
         /** The patterns, one behind the other: each letter with the digit ahead of it, at the end 0 with one. */
-        private final Row patterns = new Row(64);
-        private final Row letters = new Row(64);
-        private final Row values = new Row(64);
+        private final Row patterns = new Row(64, MOST_PATTERNS);
+        private final Row letters = new Row(64, MOST_KEPT);
+        private final Row values = new Row(64, MOST_KEPT);
 
         Hyphens(State state, Tokens tokens, Items items) {
             this.state = state;
@@ -1681,8 +1729,8 @@ public final class Catcodia {
         private final Items items;
         private final Nest nest;
         private final Hyphens hyphens;
-        private final Row row = new Row(256);
-        private final Row spare = new Row(256);
+        private final Row row = new Row(256, MOST_KEPT);
+        private final Row spare = new Row(256, MOST_KEPT);
         private int places;
         private final int[] place = new int[SIDE];
         private final int[] penalty = new int[SIDE];
@@ -1696,9 +1744,10 @@ public final class Catcodia {
         private final int[] leastCount = new int[SIDE * 5];
         private long[] exact = new long[0];
         private final int[] chosen = new int[SIDE];
-        final Row lineCounts = new Row(16);
-        final Row placeCounts = new Row(16);
-        long[] demerits = new long[16];
+        final Row lineCounts = new Row(16, MOST_KEPT);
+        final Row placeCounts = new Row(16, MOST_KEPT);
+        /** A paragraph takes two steps at least, but for one that ends with the document. */
+        final long[] demerits = new long[MOST_STEPS / 2 + 2];
         /** The paragraph for which all breaks are tried, -1 for none, and what came of it. */
         int tried = -1;
         long least;
@@ -1907,7 +1956,6 @@ public final class Catcodia {
 
         private void record(int lines, int limit) {
             int told = lineCounts.n;
-            if (told >= demerits.length) demerits = Arrays.copyOf(demerits, 2 * demerits.length);
             long sum = 0;
             int p = 0;
             int fit = 4;
@@ -1917,7 +1965,7 @@ public final class Catcodia {
                 fit = shape[line] & 3;
                 p = chosen[k];
             }
-            demerits[told] = sum;
+            if (told < demerits.length) demerits[told] = sum;
             lineCounts.add(lines);
             placeCounts.add(places);
             if (told == tried && places <= MOST_TRIED) least = tryAll(limit, state.value[LOOSE] == 0 ? 0 : lines);
@@ -1991,14 +2039,14 @@ public final class Catcodia {
         private final Tokens tokens;
         private final Items items;
         /** What was looked at of this page, and what stays to be looked at, the next one last. */
-        final Row list = new Row(64);
-        private final Row waiting = new Row(64);
+        final Row list = new Row(64, MOST_KEPT);
+        private final Row waiting = new Row(64, 2 * MOST_KEPT);
         /** What comes to the list, the next one first. */
-        final Row arrived = new Row(64);
+        final Row arrived = new Row(64, MOST_KEPT);
         private int given;
-        private final Row taken = new Row(32);
+        private final Row taken = new Row(32, MOST_KEPT);
         private long takenSize;
-        private final Row left = new Row(8);
+        private final Row left = new Row(8, MOST_KEPT);
         private boolean leftBefore;
         /** How many items stay in the list when a page is broken; the one that broke it is none of them. */
         private int stays;
@@ -2011,7 +2059,7 @@ public final class Catcodia {
         boolean ripe;
         boolean open;
         private int breaks;
-        final Row shipped = new Row(16);
+        final Row shipped = new Row(16, MOST_KEPT);
 
         Page(State state, Tokens tokens, Items items) {
             this.state = state;
@@ -2125,20 +2173,22 @@ public final class Catcodia {
         private void takeIn(int id) {
             int first = items.part(id, FIRST);
             int size = items.part(id, SIZE);
+            long extent = items.extent(first, size);
             int stays = size;
-            if (2 * (items.extent(first, size) + takenSize) > state.value[VSIZE]) stays = staying(first, size);
-            for (int i = 0; i < stays; i++) taken.add(items.list.get(first + i));
-            takenSize += items.extent(first, stays);
-            if (stays < size) left.add(items.insertion(first + stays, size - stays));
+            while (stays > 0 && !fits(first, stays, size, extent)) {
+                stays--;
+                extent -= items.down(items.list.get(first + stays));
+            }
+            // a box of more than 2000 items is refused, so no more of them are kept
+            for (int i = 0; i < stays && taken.n <= MOST_ITEMS; i++) taken.add(items.list.get(first + i));
+            takenSize += extent;
+            if (stays < size) left.add(items.rest(id, stays));
         }
 
-        /** How many items of an insertion that is short stay on this page. */
-        private int staying(int first, int size) {
-            for (int n = size - 1; n > 0; n--) {
-                if (!items.isSolid(items.list.get(first + n - 1))) continue;
-                if (2 * (items.extent(first, n) + takenSize) <= state.value[VSIZE]) return n;
-            }
-            return 0;
+        /** Whether so many items of an insertion can stay on this page, if the others are left. */
+        private boolean fits(int first, int stays, int size, long extent) {
+            if (stays < size && !items.isSolid(items.list.get(first + stays - 1))) return false;
+            return 2 * (extent + takenSize) <= state.value[VSIZE];
         }
 
         // ---- breaking
@@ -2221,8 +2271,8 @@ public final class Catcodia {
         private final Nest nest;
         private final int[] data = new int[(MOST_GROUPS + 2) * STRIDE];
         private int at = -STRIDE;
-        private final Row cells = new Row(32);
-        private final Row boxes = new Row(32);
+        private final Row cells = new Row(32, MOST_KEPT);
+        private final Row boxes = new Row(32, MOST_KEPT);
         private final int[] widths = new int[MOST_COLUMNS];
 
         Align(State state, Tokens tokens, Items items, Nest nest) {
