@@ -820,7 +820,7 @@ public final class Catcodia {
                 if (kind == CLOSE) depth--;
                 if (kind == OPEN) depth++;
                 while (matched > 0 && t != tokens.pool.get(tail + matched)) {
-                    int shorter = falls.get(matched - 1);
+                    int shorter = Math.min(falls.get(matched - 1), matched - 1);
                     for (int k = 0; k < matched - shorter; k++) addGot(tokens.pool.get(tail + k), first);
                     matched = shorter;
                 }
@@ -846,7 +846,7 @@ public final class Catcodia {
             if (many < 2) return 0;
             int last = tokens.pool.get(tail + many - 1);
             int n = falls.get(many - 2);
-            while (n > 0 && tokens.pool.get(tail + n) != last) n = falls.get(n - 1);
+            while (n > 0 && tokens.pool.get(tail + n) != last) n = Math.min(falls.get(n - 1), n - 1);
             return tokens.pool.get(tail + n) == last ? n + 1 : 0;
         }
 
