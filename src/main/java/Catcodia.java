@@ -2034,6 +2034,8 @@ public final class Catcodia {
         static final int WITH_GLUE = 1 << 30;
         /** Tells likewise of a box that has to be made yet. */
         static final int PROMISED = 1 << 30 | 1 << 29;
+        /** Tells that an item broke a page, and is not in the list before it is looked at anew. */
+        private static final int ANEW = 1 << 28;
 
         private final State state;
         private final Tokens tokens;
@@ -2048,8 +2050,9 @@ public final class Catcodia {
         private long takenSize;
         private final Row left = new Row(8, MOST_KEPT);
         private boolean leftBefore;
-        /** How many items stay in the list when a page is broken; the one that broke it is none of them. */
+        /** How many items stay in the list when a page is broken, and how many of those waiting are not in it. */
         private int stays;
+        private int outside;
         private int best;
         private int bestCost;
         private boolean solid;
@@ -2069,6 +2072,7 @@ public final class Catcodia {
 
         void reset() {
             waiting.n = 0;
+            outside = 0;
             arrived.n = 0;
             given = 0;
             left.n = 0;
@@ -2098,6 +2102,8 @@ public final class Catcodia {
         /** Looks at one item. */
         void work() {
             int id = waiting.n > 0 ? waiting.take() : come();
+            if ((id & ANEW) != 0) outside--;
+            id &= ~ANEW;
             if (items.kind(id) == INSERTION) {
                 takeIn(id);
                 previous = INSERTION;
@@ -2209,8 +2215,11 @@ public final class Catcodia {
             for (int i = 0; i < taken.n; i++) items.list.add(taken.get(i));
             state.set(BOXES + 8, taken.n == 0 ? 0 : items.pack(VBOX, takenFirst, taken.n, NATURAL, 0), true);
             tellMarks(place);
-            stays = waiting.n + Math.max(0, list.n - place - 1);
-            if (again != 0) waiting.add(again);
+            stays = waiting.n - outside + Math.max(0, list.n - place - 1);
+            if (again != 0) {
+                waiting.add(again | ANEW);
+                outside++;
+            }
             for (int i = list.n - 1; i > place; i--) waiting.add(list.get(i));
             leftBefore = left.n > 0;
             begin();

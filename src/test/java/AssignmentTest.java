@@ -115,6 +115,10 @@ public final class AssignmentTest extends Asking {
         error(0, "\\def\\x#1#2#3#4#5#6#7#8#9{#9}");
         error(6, "\\def\\x#1#2#3#4#5#6#7#8#9#{}");
         error(6, "\\def\\x#1#2#3#4#5#6#7#8#9#1{}");
+        error(6, "\\def\\x#1#2#3#4#5#6#7#8#9#:{}");
+        error(6, "\\def\\x#:{}");
+        error(6, "\\def\\x#1{#:}");
+        error(6, "\\def\\x#1#2#3#4#5#6#7#8#9{#:}");
         error(6, "\\def\\x#0{}");
         error(6, "\\def\\x#2{}");
         error(6, "\\def\\x#1#1{}");
@@ -203,6 +207,8 @@ public final class AssignmentTest extends Asking {
         error(6, "\\toks0=a");
         error(6, "\\toks0=\\toks1");
         error(6, "\\toks0=}");
+        error(0, "\\output={a}\\output = {}\\output{}");
+        signs("a", -1, "\\output={a}\\setbox0\\hbox{\\the\\output}");
         error(6, "\\output=a");
         error(6, "\\output\\relax");
         error(6, "\\patterns a");
@@ -257,6 +263,13 @@ public final class AssignmentTest extends Asking {
         register(-3, 0, 0, "\\count0=-7 \\divide\\count0 by2 ");
         register(-3, 0, 0, "\\count0=7 \\divide\\count0 by-2 ");
         register(3, 0, 0, "\\count0=-7 \\divide\\count0 by-2 ");
+        register(7, 0, 0, "\\count0=7 \\divide\\count0 by1 ");
+        register(-7, 0, 0, "\\count0=7 \\divide\\count0 by-1 ");
+        for (int n = 0; n < 10; n++) {
+            register(3, 0, n, "\\count" + n + "=1 \\advance\\count" + n + " by2 ");
+            register(3, 1, n, "\\len" + n + "=1 \\advance\\len" + n + " by2 ");
+            register(3, 2, n, "\\skip" + n + "=1 \\advance\\skip" + n + " by2 ");
+        }
         register(0, 0, 0, "\\count0=7 \\divide\\count0 by8 ");
         error(12, "\\count0=7 \\divide\\count0 by0 ");
         error(12, "\\divide\\skip0 by0 ");

@@ -182,6 +182,9 @@ public final class BoxTest extends Asking {
         error(5, "\\setbox0\\hbox{\\raise-1000000\\hbox{d}}");
         error(0, "\\setbox0\\hbox{\\raise-999998\\hbox{d}}");
         error(5, "\\setbox0\\hbox{\\raise-999999\\hbox{d}}");
+        error(0, "\\setbox0\\hbox{\\raise-1000000\\hbox{}}");
+        error(0, "\\setbox0\\hbox{\\raise1000000\\hbox{}}");
+        error(5, "\\setbox0\\hbox{\\raise-1000000\\vbox{\\rule0 -1 0 }}");
         error(5, "\\setbox0\\hbox{\\raise1000000\\hbox{\\raise999000\\hbox{a}}}");
         kinds("2" + "1101064", -1, "\\setbox0\\vbox{a\\raise1\\hbox{b}}");
     }
@@ -190,6 +193,8 @@ public final class BoxTest extends Asking {
         badness(0, "\\hbox to0{}");
         badness(100, "\\hbox to10{\\hskip0plus10}");
         badness(0, "\\hbox to1{\\hskip0plus10}");
+        badness(100, "\\hbox to1{\\hskip0plus1}");
+        badness(10000, "\\hbox to5{\\hskip0plus1}");
         badness(3, "\\hbox to1{\\hskip0plus3}");
         badness(0, "\\hbox to215{\\hskip0plus1000}");
         badness(1, "\\hbox to216{\\hskip0plus1000}");
@@ -263,6 +268,8 @@ public final class BoxTest extends Asking {
         part(0, 3, 4, "\\base8 \\setbox0\\vbox{\\hbox{d}\\hbox{a}}");
         part(0, 3, 4, "\\base-100 \\setbox0\\vbox{\\hbox{d}\\hbox{a}}");
         part(1, 3, 4, "\\base10 \\setbox0\\vbox{\\hbox{d}\\hbox{a}}");
+        part(0, 3, 6, "\\base99 \\setbox0\\vbox{\\hbox{a}\\hbox{a}}");
+        item("\\base99 \\hbox{a}\\hbox{a}", 0, 4, 4, 0, 0, 0, 92, 2, 0);
         part(12, 2, 4, "\\setbox0\\vbox{\\hbox{}\\hbox{}}");
         kinds("21", -1, "\\setbox0\\vbox{\\hbox{}}");
         kinds("251", -1, "\\setbox0\\vbox{\\kern1 \\hbox{}}");
@@ -315,6 +322,8 @@ public final class BoxTest extends Asking {
         part(2, 1, 6, ahead + "16 }");
         part(0, 1, 6, ahead + "0 }");
         part(0, 1, 6, ahead + "-8 }");
+        part(1, 1, 6, "\\setbox0\\hbox{\\leaders\\hbox to1{}\\hskip1 }");
+        part(0, 1, 6, "\\setbox0\\hbox{\\leaders\\hbox to2{}\\hskip1 }");
         part(16, 1, 4, ahead + "16 }");
         part(0, 1, 6, "\\setbox0\\hbox{\\leaders\\hbox{}\\hskip16 }");
         part(0, 1, 6, "\\setbox0\\hbox{\\leaders\\hbox to-4{}\\hskip16 }");
@@ -392,6 +401,12 @@ public final class BoxTest extends Asking {
             + "\\setbox0\\vbox{\\t{\\c}\\c\\c\\c\\c\\c\\c\\c\\c\\c\\t{\\k\\k\\k\\k\\k\\k\\k\\k\\k}" + times(9, "\\k");
         items(2000, -1, box + "}");
         error(10, box + "\\k}");
+        // one within another list
+        error(0, "\\setbox3\\hbox{aaa" + box + "}}");
+        error(0, "aaa" + box + "}");
+        // as deep as groups can be: each with a list of its own, and a paragraph
+        error(0, "a" + times(40, "\\vbox{a") + times(40, "}"));
+        error(10, "a" + times(41, "\\vbox{a"));
         // ahead of the error 5
         error(5, box.substring(0, box.length() - 4) + "\\kern1000000 \\kern1 }");
         error(10, box + "\\kern1000000 \\kern1 }");

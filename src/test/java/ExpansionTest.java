@@ -101,6 +101,9 @@ public final class ExpansionTest extends Asking {
         signs("5", -1, "\\skip0=5plus0fff\\setbox0\\hbox{\\the\\skip0 }");
         signs("6", -1, "\\setbox0\\hbox{\\the\\class`\\! }");
         signs("10", -1, "\\setbox0\\hbox{\\the\\class`\\& }");
+        String[] names = {"hsize", "vsize", "indent", "base", "tol", "loose", "linepen", "hyphpen"};
+        String[] first = {"100", "120", "10", "12", "200", "0", "10", "50"};
+        for (int i = 0; i < names.length; i++) signs(first[i], -1, "\\setbox0\\hbox{\\the\\" + names[i] + "}");
         signs("200", -1, "\\setbox0\\hbox{\\the\\tol}");
         signs("ab", -1, "\\toks3{ab}\\setbox0\\hbox{\\the\\toks3 }");
         signs("", -1, "\\setbox0\\hbox{\\the\\toks3 }");
@@ -282,6 +285,9 @@ public final class ExpansionTest extends Asking {
         // without one
         error(4, "\\count0=a");
         error(4, "{\\count0=}");
+        error(4, "\\count0=:");
+        error(4, "\\count0=/");
+        register(1, 0, 0, "\\count0=1:");
         error(4, "\\count0=-a");
         error(4, "\\count0=\\relax");
         error(4, "\\count0=\\x");

@@ -161,6 +161,10 @@ public final class PageTest extends Asking {
         rules("20 |20 |", v + "\\insert{" + rule(20) + rule(20) + "}");
         rules("20 |20 |20 |", v + "\\insert{" + rule(20) + rule(20) + rule(20) + "}");
         rules("1 20 |20 |", v + rule(1) + "\\insert{" + rule(20) + rule(20) + "}");
+        // one that stands in a box stays whole, wherever it was split
+        String twice = v + "\\setbox0\\vbox{a\\insert{" + rule(20) + rule(5) + rule(6) + "}}\\setbox1\\copy0 \\pour1 ";
+        rules("20 5 |6 20 |5 6 |", twice + END_PAGE + "\\setbox1\\copy0 \\pour1 " + END_PAGE);
+        rules("20 |30 |25 |", v + "\\insert{" + rule(20) + rule(30) + rule(25) + "}");
         // in a paragraph they come behind the line
         rules("5 |", v + "a\\insert{" + rule(5) + "}");
         kinds("22" + "11064" + "23", 0, v + "a\\insert{" + rule(5) + "}");
@@ -196,6 +200,12 @@ public final class PageTest extends Asking {
         error(13, "\\output{\\setbox9\\hbox{}\\shipout\\box9 }\\hbox{}");
         error(0, "\\output{\\shipout\\box9 }\\insert{\\hbox{}}\\hbox{}");
         items(2, -10, "\\output{\\relax}\\hbox{}");
+        // without a program both are empty behind a page
+        register(Catcodia.NONE, 7, 8, "\\insert{\\hbox{}}\\hbox{}");
+        register(Catcodia.NONE, 7, 9, "\\insert{\\hbox{}}\\hbox{}");
+        // \vskip ends the paragraph, the page is broken, and then its glue is read
+        item("\\vsize7 \\base0 \\hsize10 \\indent0 \\output{\\global\\count0=5 \\shipout\\box9 }a a a\\vskip\\count0 \\hbox{}",
+            2, 5, 4, 0, 0, 0, 5, 1, 0);
         // 40 such boxes
         String p = "\\def\\p{\\hbox{}" + END_PAGE + "}";
         due("pages", of(p + times(40, "\\p")).pages(), 40);
@@ -317,6 +327,13 @@ public final class PageTest extends Asking {
         error(10, most);
         error(1, k + "\\n\\n\\c\\c\\c\\c\\c\\c\\rule0 0 0 \\x");
         error(1, k + "\\n\\c\\rule0 0 0 \\penalty-10000 \\n\\c\\rule0 0 0 \\x");
+        // what stays, 1995 kerns and a rule, with what comes of \output: a box, a penalty and two kerns more
+        String stays = "\\vsize20 \\output{\\shipout\\box9 \\ifnum\\count0=0 \\hbox{}\\penalty-10000 \\!\\k\\fi\\global\\count0=1 }" + k
+            + rule(20) + "\\penalty0 \\n\\n\\c\\t{\\k\\k\\k\\k\\k\\k\\k\\k\\k}\\k\\k\\k\\k\\k" + rule(20) + "\\penalty0 ";
+        error(0, "\\def\\!{\\k}" + stays);
+        due("pages", of("\\def\\!{\\k}" + stays).pages(), 3);
+        error(10, "\\def\\!{\\k\\k}" + stays);
+        due("pages", of("\\def\\!{\\k\\k}" + stays).pages(), 1);
         // box 8 with 2000 and 2001
         String taken = k + "\\insert{\\n\\n\\c\\t{\\k\\k\\k\\k\\k\\k\\k\\k\\k}\\k\\k\\k\\k\\k\\k\\k\\k";
         error(10, taken + "}" + rule(1));

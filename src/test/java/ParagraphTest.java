@@ -14,6 +14,10 @@ public final class ParagraphTest extends Asking {
         // its penalty and its glue
         item("\\setbox0\\vbox{a}", -1, 4, 6, 0, 0, 0, 10000, 2, 0);
         item("\\setbox0\\vbox{a}", -1, 5, 4, 0, 0, 0, 80, 2, 0);
+        item("\\indent0 \\setbox0\\vbox{b\\hskip0plus1f\\kern0 }", -1, 4, 4, 0, 0, 0, 48, 2, 0);
+        item("\\indent0 \\setbox0\\vbox{b\\hskip0plus1f\\kern0 }", -1, 7, 4, 0, 0, 0, 48, 2, 0);
+        item("\\hsize3 \\indent0 \\setbox0\\vbox{b}", -1, 1, 1, 3, 7, 0, 1000000, 1, 0);
+        item("\\hsize3 \\indent0 \\setbox0\\vbox{b}", -1, 5, 4, 0, 0, 0, 0, 2, 0);
         // with nothing besides the indent box it becomes nothing
         due("paragraphs", of("\\hskip1 \\par").paragraphs(), 0);
         due("pages", of("\\hskip1 \\par").pages(), 0);
@@ -174,6 +178,9 @@ public final class ParagraphTest extends Asking {
         paragraph("\\hsize2000 \\indent0 " + line(1500) + "b", 0, 2, 347L * 347 + 100 + 3000, 347L * 347 + 100 + 3000);
         // a line without anything is 10000 bad
         paragraph("\\hsize2000 \\indent0 " + line(0), 0, 2, 100 + 10010L * 10010 + 3000, 100 + 10010L * 10010 + 3000);
+        // stretched by 1 of 1, and shrunk
+        paragraph("\\hsize20 \\indent0 b\\hskip15plus1\\penalty-10000 b", 0, 2, 110 * 110 + 100 + 3000, 15200);
+        paragraph("\\hsize20 \\indent0 b\\hskip17minus1\\penalty-10000 b", 0, 2, 110 * 110 + 100, 12200);
         // \linepen and the BADNESS together, squared
         paragraph("\\linepen0 a", 0, 1, 0, 0);
         paragraph("\\linepen-10 a", 0, 1, 100, 100);
@@ -217,6 +224,15 @@ public final class ParagraphTest extends Asking {
         paragraph("\\tol-1 abcde", 0, 1, 100, 100);
         paragraph("\\tol-1000000 a a a", 0, 1, 100, 100);
         paragraph("\\tol1000000 \\hsize1 abc", 0, 1, 10010L * 10010, 10010L * 10010);
+        // a row beyond \tol is not looked at, though its sum is less
+        String cheaper = "\\hsize100 \\indent0 b\\kern86 \\hskip0plus10\\penalty0 \\kern10 \\penalty1000 b";
+        paragraph("\\tol99 " + cheaper, 0, 2, 1000200, 1000200);
+        paragraph("\\tol100 " + cheaper, 0, 2, 110 * 110 + 100 + 3000, 15200);
+        // each paragraph has its own
+        Catcodia both = of("a\\par\\linepen1 a\\par\\linepen2 a");
+        due("demerits by trying 0", both.demeritsByTrying(0), 100);
+        due("demerits by trying 1", both.demeritsByTrying(1), 1);
+        due("demerits by trying 2", both.demeritsByTrying(2), 4);
         // the least sum, of several one with fewer lines
         due("lines", of("\\linepen0 a\\hskip0plus1f\\penalty0 b\\hskip0plus1f\\penalty0 c").lines(0), 1);
         due("lines", of("\\linepen1 a\\hskip0plus1f\\penalty0 b\\hskip0plus1f\\penalty0 c").lines(0), 1);
@@ -246,6 +262,12 @@ public final class ParagraphTest extends Asking {
         paragraph("\\loose2 " + gap, 0, 3, 300, 300);
         paragraph("\\loose9 " + gap, 0, 3, 300, 300);
         paragraph("\\loose-1 " + gap, 0, 1, 100, 100);
+        // 3 lines have the least sum here, and 2 are not possible
+        String dear = gap.replace("\\penalty0", "\\penalty-20");
+        paragraph(dear, 0, 3, 300 - 800, -500);
+        paragraph("\\loose-1 " + dear, 0, 1, 100, 100);
+        paragraph("\\loose-2 " + dear, 0, 1, 100, 100);
+        paragraph("\\loose1 " + dear, 0, 3, -500, -500);
         // only rows within the same limit
         String wide = "\\hsize100 a a a";
         paragraph("\\loose1 " + wide, 0, 1, 100, 100);
@@ -289,9 +311,23 @@ public final class ParagraphTest extends Asking {
         hyphened("abcd1e", "b1c", "abcd1e");
         hyphened("ab-cde_ab-cde", "b1c", "abcde abcde");
         hyphened("ab-cde1ab-cde", "b1c", "abcde1abcde");
+        hyphened("zz-zzz", "z1z", "zzzzz");
+        hyphened("ZZ-ZZZ", "z1z", "ZZZZZ");
+        hyphened("aA-Aaa", "a1a", "aAAaa");
+        hyphened("AZ-ZZZ`AZ-ZZZ", "az1z 2z.", "AZZZZ`AZZZZ");
+        hyphened("aa-aaa[aa-aaa", "a1a", "aaaaa[aaaaa");
+        hyphened("aa-aaa@aa-aaa", "a1a", "aaaaa@aaaaa");
+        hyphened("aa-aaa`aa-aaa", "a1a", "aaaaa`aaaaa");
+        hyphened("aaa`aa", "a1a", "aaa`aa");
+        hyphened("aaa[aa", "a1a", "aaa[aa");
+        hyphened("aaa@aa", "a1a", "aaa@aa");
         // . ahead and behind
         hyphened("ab-cde", ".ab1c", "abcde");
         hyphened("abcde", ".b1c", "abcde");
+        hyphened("abcde", "cd", "abcde");
+        hyphened("abcde", "b cd e", "abcde");
+        hyphened("dbcde", "q ab1c", "dbcde");
+        hyphened("db-cde", "q db1c", "dbcde");
         hyphened("ab-cde", "b1cde.", "abcde");
         hyphened("abcde", "b1cd.", "abcde");
         hyphened("ab-cde", ".ab1cde.", "abcde");
@@ -344,6 +380,13 @@ public final class ParagraphTest extends Asking {
         error(10, most + "\\hskip0 \\hskip0 " + end);
         due("lines", of(most + end).lines(0), 2);
         due("paragraphs", of(most + "\\k" + end).paragraphs(), 0);
+        // many paragraphs: 2 and 1 and 7 times 211 steps, and 20 more
+        String many = "\\vsize1000000 \\def\\t#1{#1#1#1#1#1#1#1#1#1#1}\\t{\\t{\\t{a\\par}}}";
+        error(10, many);
+        due("paragraphs", of(many).paragraphs(), 709);
+        due("lines", of(many).lines(708), 1);
+        due("demerits", of(many).demerits(708), 100);
+        due("demerits by trying", of(many).demeritsByTrying(708), 100);
         // the box of a line has 2000 with itself; hyphens that patterns put in count in it alone
         String one = k + "b\\n\\n\\c\\t{\\k\\k\\k\\k\\k\\k\\k\\k\\k}";
         error(1, one + "\\k\\k\\k\\k\\k\\par\\x");

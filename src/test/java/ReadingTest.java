@@ -226,6 +226,8 @@ public final class ReadingTest extends Asking {
         error(10, SIX + "\\def\\q#1xx.{}\\expandafter\\q\\m xxx.");
         error(10, SIX + "\\def\\q#1xx.{}\\expandafter\\q\\m xxx");
         error(0, SIX + "\\def\\q#1xxxxx.{}\\expandafter\\q\\m xxxxx.");
+        error(0, SIX + "\\def\\q#1.#2.{}\\expandafter\\q\\m.a.");
+        error(10, SIX + "\\def\\q#1.#2.{}\\expandafter\\q\\m a.a.");
         // each parameter has 600 of its own; a body that is put in place has 600 in all
         String two600 = "\\toks0\\expandafter{\\m}\\expandafter\\q\\expandafter{\\the\\expandafter\\toks"
             + "\\expandafter0\\expandafter}\\expandafter{\\m";
@@ -290,6 +292,24 @@ public final class ReadingTest extends Asking {
         error(13, "\\output{}\\output{\\relax}\\hbox{}" + times(39, "{") + "\\penalty-10000 ");
     }
 
+    /** Where a TAIL comes for the first time, for tails that can begin within themselves. */
+    private static void tails() {
+        for (int size = 1; size <= 4; size++) {
+            for (int bits = 0; bits < 1 << size; bits++) {
+                String tail = "";
+                for (int i = 0; i < size; i++) tail += (bits >> i & 1) == 0 ? "a" : "b";
+                for (int text = 0; text < 64; text++) {
+                    String comes = "";
+                    for (int i = 0; i < 6; i++) comes += (text >> i & 1) == 0 ? "a" : "b";
+                    comes += tail;
+                    int at = comes.indexOf(tail);
+                    String want = "[" + comes.substring(0, at) + "]" + comes.substring(at + size);
+                    signs(want, -1, "\\def\\x#1" + tail + "{[#1]}\\setbox0\\hbox{\\x " + comes + "}");
+                }
+            }
+        }
+    }
+
     public static void main(String[] args) {
         names();
         blanks();
@@ -297,6 +317,7 @@ public final class ReadingTest extends Asking {
         meanings();
         parameters();
         limits();
+        tails();
         end();
     }
 }
