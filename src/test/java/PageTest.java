@@ -334,6 +334,12 @@ public final class PageTest extends Asking {
         due("pages", of("\\def\\!{\\k}" + stays).pages(), 3);
         error(10, "\\def\\!{\\k\\k}" + stays);
         due("pages", of("\\def\\!{\\k\\k}" + stays).pages(), 1);
+        // and at the next page: what broke the one ahead has not come yet, as it is not looked at anew
+        String next = stays.replace("\\fi\\global\\count0=1 ", "\\fi\\ifnum\\count0=1 \\k\\k\\?\\fi\\global\\advance\\count0 by1 ");
+        error(0, "\\def\\!{\\k}\\let\\?\\relax" + next);
+        due("pages", of("\\def\\!{\\k}\\let\\?\\relax" + next).pages(), 3);
+        error(10, "\\def\\!{\\k}\\def\\?{\\k}" + next);
+        due("pages", of("\\def\\!{\\k}\\def\\?{\\k}" + next).pages(), 2);
         // box 8 with 2000 and 2001
         String taken = k + "\\insert{\\n\\n\\c\\t{\\k\\k\\k\\k\\k\\k\\k\\k\\k}\\k\\k\\k\\k\\k\\k\\k\\k";
         error(10, taken + "}" + rule(1));
