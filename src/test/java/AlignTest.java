@@ -48,6 +48,9 @@ public final class AlignTest extends Asking {
     }
 
     private static void rows() {
+        // TABs are more than BLANKs
+        kinds("2" + "11010" + "4" + "111", -1, "\\setbox0\\vbox{\\align{#&#\\cr a&b\\cr &}}");
+        kinds("2" + "11010", -1, "\\setbox0\\vbox{\\align{#&#\\cr a&b\\cr }}");
         // a row is an \hbox of its boxes
         kinds("2", -1, BOX + "#\\cr}}");
         kinds("211", -1, BOX + "#\\cr\\cr}}");
@@ -131,6 +134,8 @@ public final class AlignTest extends Asking {
     }
 
     private static void widths() {
+        // those of one alignment are not those of another one
+        register(10, 7, 0, "\\setbox1\\vbox{\\align{#\\cr abc\\cr}}\\setbox0\\vbox{\\align{#\\cr a\\cr}}");
         // a column is as wide as its widest box, 0 at least; each box is set anew to it
         String two = BOX + "#&#\\cr a&b\\cr b&a\\cr c\\cr}}";
         item(two, -1, 1, 1, 20, 7, 0, 0, 1, 0);

@@ -47,6 +47,12 @@ public final class ExpansionTest extends Asking {
         error(0, "\\def\\x{{}}\\hbox\\noexpand\\x");
         error(4, "\\def\\x{\\hsize}\\the\\noexpand\\x");
         error(6, "\\def\\x{\\count}\\global\\noexpand\\x0=1");
+        // whichever macro it is
+        for (int n = 1; n < 60; n++) {
+            String text = times(n, "\\def~{}") + "\\noexpand~";
+            error(0, text);
+            steps(n + 2, text);
+        }
     }
 
     private static void namesMade() {
@@ -435,6 +441,33 @@ public final class ExpansionTest extends Asking {
         // each \csname is within the one ahead of it
         error(2, "\\let\\c\\csname" + times(40, "\\c"));
         error(10, "\\let\\c\\csname" + times(41, "\\c"));
+        // \the in a BODY is an expansion likewise
+        error(0, "\\edef\\x{\\the" + times(39, "\\count") + "0 }");
+        error(10, "\\edef\\x{\\the" + times(40, "\\count") + "0 }");
+        // those that are ended do not count
+        error(0, "\\edef\\x{" + times(45, "\\the\\tol ") + "}");
+        error(0, times(45, "\\the\\tol "));
+        error(0, "\\def\\t#1{#1#1#1#1#1#1#1#1#1#1}\\t{\\t{\\skip1\\skip2 }}");
+        error(0, "\\def\\t#1{#1#1#1#1#1#1#1#1#1#1}\\t{\\t{\\skip1-\\count2 plus3 }}");
+    }
+
+    /** Where a NUMBER comes, what follows is none of a GLUE. */
+    private static void noGlue() {
+        kinds("1" + "5" + "00000" + "4", -1, "\\setbox0\\hbox{\\kern1plus2 }");
+        kinds("1" + "00000" + "4", -1, "\\setbox0\\hbox{\\len0=1plus2 }");
+        kinds("1" + "00000" + "4", -1, "\\setbox0\\hbox{\\count0=1plus2 }");
+        kinds("1" + "00000" + "4", -1, "\\setbox0\\hbox{\\hsize=1plus2 }");
+        kinds("1" + "00000" + "4", -1, "\\setbox0\\hbox{\\copy1plus2 }");
+        kinds("1" + "00000", -1, "\\setbox0\\hbox{\\ifnum1<2plus3\\fi}");
+        kinds("1" + "3" + "00000" + "4", -1, "\\setbox0\\hbox{\\rule1 2 3plus4 }");
+        error(4, "\\rule1plus1 2 3 ");
+        error(4, "\\rule1 2plus1 3 ");
+        error(4, "\\ifnum1plus2<3 \\fi");
+        error(6, "\\hbox{\\raise1plus2\\hbox{}}");
+        error(6, "\\hbox to1plus2{}");
+        error(6, "\\vbox spread1minus2{}");
+        error(4, "\\count0plus1=2 ");
+        error(4, "\\class65=6\\class65plus1=2 ");
     }
 
     public static void main(String[] args) {
@@ -447,6 +480,7 @@ public final class ExpansionTest extends Asking {
         numbers();
         glues();
         within();
+        noGlue();
         end();
     }
 }

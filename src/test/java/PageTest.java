@@ -191,6 +191,8 @@ public final class PageTest extends Asking {
         // both for all groups
         register(Catcodia.NONE, 7, 9, "{\\setbox9\\hbox{a}\\hbox{}" + END_PAGE + "}");
         register(0, 7, 8, "\\output{\\shipout\\box9 }{\\setbox8\\hbox{a}\\insert{\\hbox{}}\\hbox{}" + END_PAGE + "}");
+        items(0, -10, "\\setbox9\\hbox{x}{\\hbox{}" + END_PAGE + "}");
+        items(0, -10, "\\output{\\shipout\\box9 }\\setbox9\\hbox{x}{\\hbox{}" + END_PAGE + "}");
         // Error 13, if box 9 is not empty behind it
         error(13, "\\output{\\relax}\\hbox{}");
         error(13, "\\output{ }\\hbox{}");
@@ -334,6 +336,26 @@ public final class PageTest extends Asking {
         due("pages", of("\\def\\!{\\k}" + stays).pages(), 3);
         error(10, "\\def\\!{\\k\\k}" + stays);
         due("pages", of("\\def\\!{\\k\\k}" + stays).pages(), 1);
+        // also if the run ahead of it ended before what broke a page was looked at anew
+        String broken = "\\vsize20 \\output{\\x}" + rule(20) + "\\penalty0 " + rule(20) + "\\penalty0 ";
+        Catcodia again = of(broken);
+        due("error of " + broken, again.error(), 1);
+        again.cut(broken.length());
+        tell(again, "\\def\\!{\\k\\k}" + stays);
+        due("error when told again", again.error(), 10);
+        // an insertion that was left is one more
+        String left = stays.replace(k + rule(20), k + "\\insert{" + rule(10) + "}\\insert{" + rule(5) + "}" + rule(10));
+        error(0, "\\def\\!{}" + left);
+        due("pages", of("\\def\\!{}" + left).pages(), 3);
+        error(10, "\\def\\!{\\k}" + left);
+        due("pages", of("\\def\\!{\\k}" + left).pages(), 1);
+        // at a later page what broke the one ahead is in the list
+        String later = stays.replace("\\count0=0 ", "\\count0=1 ").replace("\\global\\count0=1 ", "\\global\\advance\\count0 by1 ")
+            .replace(k + rule(20), k + rule(20) + "\\penalty0 " + rule(20));
+        error(0, "\\def\\!{\\k}" + later);
+        due("pages", of("\\def\\!{\\k}" + later).pages(), 4);
+        error(10, "\\def\\!{\\k\\k}" + later);
+        due("pages", of("\\def\\!{\\k\\k}" + later).pages(), 2);
         // and at the next page: what broke the one ahead has not come yet, as it is not looked at anew
         String next = stays.replace("\\fi\\global\\count0=1 ", "\\fi\\ifnum\\count0=1 \\k\\k\\?\\fi\\global\\advance\\count0 by1 ");
         error(0, "\\def\\!{\\k}\\let\\?\\relax" + next);

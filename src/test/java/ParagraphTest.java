@@ -228,6 +228,16 @@ public final class ParagraphTest extends Asking {
         String cheaper = "\\hsize100 \\indent0 b\\kern86 \\hskip0plus10\\penalty0 \\kern10 \\penalty1000 b";
         paragraph("\\tol99 " + cheaper, 0, 2, 1000200, 1000200);
         paragraph("\\tol100 " + cheaper, 0, 2, 110 * 110 + 100 + 3000, 15200);
+        // none is within \tol, though the sum up to the last place is below 0
+        paragraph("\\hsize20 \\indent0 \\tol0 \\linepen0 b\\rule16 1 1 \\penalty-200 \\rule30 1 1 ", 0, 2, 99960000, 99960000);
+        // 2 lines, and 3 of which the first one is broken later, have the least sum
+        String early = "\\hsize20 \\indent0 \\linepen0 b\\rule6 1 1 \\penalty10000 \\hskip0plus1f\\penalty0 \\kern15 \\rule-20 1 1 "
+            + "\\penalty10000 \\hskip0plus1f\\penalty0 \\rule20 1 1 \\penalty0 \\rule20 1 1 ";
+        paragraph(early, 0, 2, 0, 0);
+        kinds("22" + "110364" + "64" + "1364636364", 0, early);
+        // the end of a paragraph has no penalty, whatever the one ahead had
+        due("demerits", of("a\\penalty100 b\\penalty100 c\\par a").demerits(1), 100);
+        due("demerits", of("a\\penalty100 b\\penalty100 c\\par a\\penalty10 b").demerits(1), 100);
         // each paragraph has its own
         Catcodia both = of("a\\par\\linepen1 a\\par\\linepen2 a");
         due("demerits by trying 0", both.demeritsByTrying(0), 100);
@@ -239,6 +249,25 @@ public final class ParagraphTest extends Asking {
         due("lines", of("\\linepen1 a\\hskip0plus1f\\penalty-1 b\\hskip0plus1f\\penalty-1 c").lines(0), 1);
         due("lines", of("\\linepen1 a\\hskip0plus1f\\penalty-2 b\\hskip0plus1f\\penalty-1 c").lines(0), 2);
         due("lines", of("\\linepen1 a\\hskip0plus1f\\penalty-2 b\\hskip0plus1f\\penalty-2 c").lines(0), 3);
+    }
+
+    /** The least sum is that which is found by trying all breaks, whatever the paragraph is. */
+    private static void tried() {
+        String[] parts = {"a", "bc", "def ", "gh ", "\\-", "\\penalty-50 ", "\\penalty90 ", "\\kern-30 ", "\\kern9 ", "\\rule30 1 1 ",
+            "\\hskip5plus9minus3 ", "\\hskip0plus1f", "\\hskip0plus-1f", "\\penalty-10000 "};
+        int seed = 1;
+        for (int n = 0; n < 500; n++) {
+            StringBuilder text = new StringBuilder("\\hsize60 \\hyphpen-9 \\tol" + (n % 3 == 0 ? 10000 : n % 3 * 60) + " \\loose" + (n % 5 - 2) + " ");
+            for (int k = 0; k < 16; k++) {
+                seed = seed * 1103515245 + 12345;
+                text.append(parts[(seed >>> 16) % parts.length]);
+            }
+            Catcodia x = of(text.toString());
+            for (int k = 0; k < x.paragraphs(); k++) {
+                long least = x.demeritsByTrying(k);
+                if (least != Catcodia.NONE) due("demerits " + k + " of " + text, x.demerits(k), least);
+            }
+        }
     }
 
     private static void loosely() {
@@ -321,6 +350,13 @@ public final class ParagraphTest extends Asking {
         hyphened("aaa`aa", "a1a", "aaa`aa");
         hyphened("aaa[aa", "a1a", "aaa[aa");
         hyphened("aaa@aa", "a1a", "aaa@aa");
+        // what is no character is no letter, whatever its number is
+        hyphened("xab_cde", "b1a", "xab\\kern97 cde");
+        hyphened("xab_cde", "b1a", "xab\\penalty97 cde");
+        // a digit belongs to its own pattern, which may have no letters
+        hyphened("abcde", "z1 c", "abcde");
+        hyphened("abcde", "1z 1 2", "abcde");
+        hyphened("ab-cde", "1", "abcde");
         // . ahead and behind
         hyphened("ab-cde", ".ab1c", "abcde");
         hyphened("abcde", ".b1c", "abcde");
@@ -404,6 +440,7 @@ public final class ParagraphTest extends Asking {
         linesThatCome();
         demerits();
         passes();
+        tried();
         loosely();
         hyphens();
         full();

@@ -305,7 +305,13 @@ public final class ReadingTest extends Asking {
                     int at = comes.indexOf(tail);
                     String want = "[" + comes.substring(0, at) + "]" + comes.substring(at + size);
                     signs(want, -1, "\\def\\x#1" + tail + "{[#1]}\\setbox0\\hbox{\\x " + comes + "}");
-                }
+                    // the end of what was taken for one begins another one
+        signs("aaba", -1, "\\def\\m#1aabaaac{\\setbox0\\hbox{#1}}\\m aabaaabaaac");
+        signs("aabaa", -1, "\\def\\m#1aabaaac{\\setbox0\\hbox{#1}}\\m aabaaaabaaac");
+        // each parameter counts for the body by itself
+        error(0, "\\def\\t#1{#1#1#1#1#1#1#1#1#1#1}\\edef\\b{\\t{\\t{xx}}\\t{xxxxx}}\\def\\m#1#2{\\hbox{#1#2}}"
+            + "\\expandafter\\m\\expandafter{\\b}{\\b}");
+    }
             }
         }
     }

@@ -5,15 +5,17 @@ abstract class Asking {
 
     static Catcodia of(String text) {
         Catcodia x = new Catcodia();
-        int at = 0;
-        while (at < text.length()) {
+        tell(x, text);
+        return x;
+    }
+
+    static void tell(Catcodia x, String text) {
+        for (int at = 0; at < text.length(); at += 8) {
             int n = Math.min(8, text.length() - at);
             long signs = 0;
             for (int i = n - 1; i >= 0; i--) signs = signs << 8 | text.charAt(at + i);
             x.feed(signs, n);
-            at += n;
         }
-        return x;
     }
 
     static void due(String what, long got, long want) {
