@@ -305,15 +305,17 @@ public final class ReadingTest extends Asking {
                     int at = comes.indexOf(tail);
                     String want = "[" + comes.substring(0, at) + "]" + comes.substring(at + size);
                     signs(want, -1, "\\def\\x#1" + tail + "{[#1]}\\setbox0\\hbox{\\x " + comes + "}");
-                    // the end of what was taken for one begins another one
+                }
+            }
+        }
+        // the end of what was taken for one begins another one
         signs("aaba", -1, "\\def\\m#1aabaaac{\\setbox0\\hbox{#1}}\\m aabaaabaaac");
         signs("aabaa", -1, "\\def\\m#1aabaaac{\\setbox0\\hbox{#1}}\\m aabaaaabaaac");
+        // each TAIL by itself
+        signs("ab", -1, "\\def\\m#1aab{}\\def\\n#1abc{\\setbox0\\hbox{#1}}\\m aab\\n ababc");
         // each parameter counts for the body by itself
         error(0, "\\def\\t#1{#1#1#1#1#1#1#1#1#1#1}\\edef\\b{\\t{\\t{xx}}\\t{xxxxx}}\\def\\m#1#2{\\hbox{#1#2}}"
             + "\\expandafter\\m\\expandafter{\\b}{\\b}");
-    }
-            }
-        }
     }
 
     public static void main(String[] args) {
