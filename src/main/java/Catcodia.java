@@ -59,9 +59,11 @@ public final class Catcodia {
     private static final String EXPANDABLE_NAMES =
         "expandafter noexpand csname the firstmark botmark ifnum ifx ifvoid else fi ";
     private static final String TYPESETTING_NAMES =
-        "endcsname relax par end hskip vskip kern penalty rule mark - insert raise pour leaders align shipout cr wd ht dp global hbox vbox box copy ";
+        "endcsname relax par end hskip vskip kern penalty rule mark - insert raise pour leaders align shipout cr wd ht dp ";
+    private static final String BOX_NAMES = "global hbox vbox box copy ";
     private static final String ASSIGNING_NAMES =
-        "def edef let class count len skip toks output advance multiply divide setbox patterns hsize vsize indent base tol loose linepen hyphpen ";
+        "def edef let class count len skip toks output advance multiply divide setbox patterns ";
+    private static final String PARAMETER_NAMES = "hsize vsize indent base tol loose linepen hyphpen ";
     private static final int C_EXPANDAFTER = 0, C_NOEXPAND = 1, C_CSNAME = 2, C_THE = 3, C_FIRSTMARK = 4,
         C_BOTMARK = 5, C_IFNUM = 6, C_IFX = 7, C_IFVOID = 8, C_ELSE = 9, C_FI = 10;
     private static final int C_ENDCSNAME = 11, C_RELAX = 12, C_PAR = 13, C_END = 14, C_HSKIP = 15, C_VSKIP = 16,
@@ -358,7 +360,9 @@ public final class Catcodia {
             Arrays.fill(head, -1);
             addNames(EXPANDABLE_NAMES);
             addNames(TYPESETTING_NAMES);
+            addNames(BOX_NAMES);
             addNames(ASSIGNING_NAMES);
+            addNames(PARAMETER_NAMES);
             System.arraycopy(head, 0, firstHead, 0, 256);
         }
 
