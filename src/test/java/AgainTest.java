@@ -58,6 +58,14 @@ public final class AgainTest extends Asking {
                 due(first + " and then " + second + " tells " + got + " and not " + want, got.equals(want) ? 1 : 0, 1);
             }
         }
+        // an alignment that was not ended leaves nothing behind, however often
+        Catcodia often = new Catcodia();
+        String open = "\\align{#\\cr\\x}";
+        for (int i = 0; i < 60; i++) {
+            tell(often, open);
+            due("error of " + open + " again", often.error(), 1);
+            often.cut(open.length());
+        }
         // what stays is run with what comes
         for (String text : DOCUMENTS) {
             Catcodia x = of(text);

@@ -31,6 +31,11 @@ public final class AssignmentTest extends Asking {
     }
 
     private static void givenBack() {
+        // meanings that NAMEs have at first, too
+        kinds("1" + "5", -1, "{\\def\\kern{b}}\\setbox0\\hbox{\\kern1 }");
+        kinds("1" + "5", -1, "{\\let\\kern=b}\\setbox0\\hbox{\\kern1 }");
+        error(1, "{\\def\\x{b}}\\x");
+        error(1, "{\\def~{b}}~");
         register(1, 0, 0, "\\count0=1 {\\count0=2 }");
         register(1, 1, 9, "\\len9=1 {\\len9=2 {\\len9=3 }}");
         register(1, 2, 0, "\\skip0=1plus2f{\\skip0=2 }");
