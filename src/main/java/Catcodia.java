@@ -660,6 +660,10 @@ public final class Catcodia {
         private final Items items;
         /** How many NUMBERs and expansions are begun and not ended. */
         private int within;
+        /** Whether the signs of a GLUE are read: they are of its NUMBER, or if \skip comes behind them of none. */
+        private boolean undecided;
+        /** The steps ahead of what is within too many, if that GLUE is a NUMBER; -1 if nothing is. */
+        private int stepsAtMost;
         /** For each conditional that is begun, 1 behind its \else. */
         final Row conditions = new Row(32, MOST_KEPT);
         private final Row got = new Row(256, MOST_KEPT);
@@ -679,11 +683,16 @@ public final class Catcodia {
 
         void reset() {
             within = 0;
+            undecided = false;
             conditions.n = 0;
         }
 
+        /** A GLUE of which it is open whether it is a NUMBER is counted, but fails only when that is known. */
         private void enter() {
-            if (within >= MOST_WITHIN) state.fail(10);
+            if (within >= MOST_WITHIN) {
+                if (!undecided || within > MOST_WITHIN) state.fail(10);
+                if (stepsAtMost < 0) stepsAtMost = state.steps;
+            }
             within++;
         }
 
@@ -998,13 +1007,17 @@ public final class Catcodia {
         /** A GLUE, whose parts are then told by measure, or a NUMBER. */
         private int amount(boolean glue) {
             enter();
+            if (glue) {
+                undecided = true;
+                stepsAtMost = -1;
+            }
             int sign = 1;
             int t = needed();
             for (int i = 0; i < FAR && (t == PLUS || t == MINUS); i++) {
                 if (t == MINUS) sign = -sign;
                 t = needed();
             }
-            if (glue && tokens.command(t) == C_SKIP) {
+            if (glue && decide(t)) {
                 within--;
                 int skip = state.value[SKIPS + index()];
                 for (int k = 0; k < 5; k++) measure[k] = items.gluePart(skip, k) * (k % 2 == 0 && k > 0 ? 1 : sign);
@@ -1019,6 +1032,17 @@ public final class Catcodia {
                 readPart("minus", 3);
             }
             return natural;
+        }
+
+        /** Whether a GLUE is one of \skip, by the token behind its signs; if not, these are of a NUMBER. */
+        private boolean decide(int t) {
+            undecided = false;
+            if (tokens.command(t) == C_SKIP) return true;
+            if (stepsAtMost >= 0) {
+                state.steps = stepsAtMost;
+                state.fail(10);
+            }
+            return false;
         }
 
         private void readPart(String name, int k) {

@@ -19,7 +19,8 @@ public final class AgainTest extends Asking {
         "\\vsize7 \\base0 \\hsize10 \\indent0 a a a\\vskip5 \\hbox{a}", "\\def\\x{\\x}\\x",
         "\\output{\\shipout\\box9 }\\vsize1 \\insert{\\rule1 9 0 }\\end", "\\output{\\box9 }\\hbox{}",
         "\\toks1{ab}\\setbox0\\hbox{\\firstmark\\botmark}", "{\\count1=6 \\hsize=9 {\\class97=8 }}", "{\\def\\kern{a}\\let\\foo=b",
-        "{\\def\\kern{b}\\let\\foo=b}\\kern1 \\foo", "\\count0=" + times(39, "\\count") + "0 ", times(15, "a ") + "\\par b",
+        "{\\def\\kern{b}\\let\\foo=b}\\kern1 \\foo", "\\count0=" + times(39, "\\count") + "0 ",
+        "\\count0=" + times(40, "\\count") + "0 ", "\\def\\x.{}\\hskip-\\x", "\\hskip-", times(15, "a ") + "\\par b",
         "\\def\\t#1{#1#1#1#1#1#1#1#1#1#1}\\setbox1\\vbox{\\t{\\t{\\kern0 }}}\\def\\c{\\t{\\setbox2\\copy1\\pour2 }}\\c\\c\\c",
     };
 

@@ -451,6 +451,54 @@ public final class ExpansionTest extends Asking {
         error(0, "\\def\\t#1{#1#1#1#1#1#1#1#1#1#1}\\t{\\t{\\skip1-\\count2 plus3 }}");
     }
 
+    /** Signs ahead of \skip are the GLUE's own, and stand in no NUMBER; those of a NUMBER do. */
+    private static void withinGlue() {
+        for (String glue : new String[] {"\\skip1=+", "\\hskip", "\\vskip", "\\advance\\skip1by", "\\leaders\\hbox{x}\\vskip"}) {
+            error(0, nested(39, "\\skip0") + glue + times(39, "\\e+") + "\\a");
+            error(10, nested(39, "\\skip0") + glue + times(40, "\\e+") + "\\a");
+            error(0, nested(38, "5 ") + glue + times(38, "\\e+") + "\\a");
+            error(10, nested(39, "5 ") + glue + times(39, "\\e+") + "\\a");
+            error(10, nested(39, "\\tol") + glue + times(39, "\\e+") + "\\a");
+        }
+        String signs = "\\skip1=-+" + times(39, "\\e-") + "\\a";
+        register(7, 2, 1, "\\skip0=7plus3minus2ff" + nested(39, "\\skip0 ") + signs);
+        register(3, 3, 1, "\\skip0=7plus3minus2ff" + nested(39, "\\skip0 ") + signs);
+        register(2, 5, 1, "\\skip0=7plus3minus2ff" + nested(39, "\\skip0 ") + signs);
+        register(2, 6, 1, "\\skip0=7plus3minus2ff" + nested(39, "\\skip0 ") + signs);
+        // \let, \def, \skip, 39 or 40 expansions, and those of the parts that \skip takes from no signs
+        steps(43, nested(39, "\\skip0") + signs);
+        error(10, nested(40, "\\skip0") + "\\skip1=+" + times(40, "\\e-") + "\\a");
+        steps(43, nested(40, "\\skip0") + "\\skip1=+" + times(40, "\\e-") + "\\a");
+        // behind = nothing is in a NUMBER yet, because BLANKs are looked for there
+        error(0, nested(39, "5 ") + "\\skip1=" + times(39, "\\e-") + "\\a");
+        error(0, nested(39, "5 ") + "\\count1=" + times(39, "\\e-") + "\\a");
+        // a NUMBER ends the run in place of what is within too many, as one that is in no GLUE does
+        steps(42, nested(39, "5 ") + signs);
+        steps(42, nested(39, "5 ") + "\\count1=+" + times(39, "\\e-") + "\\a");
+        error(10, nested(39, "5 ") + "\\count1=+" + times(39, "\\e-") + "\\a");
+        // a second time for one GLUE, and for the next one
+        error(0, nested(39, "\\skip0 ") + signs + "\\skip2=5 ");
+        error(0, nested(39, "\\skip0 ") + signs + "\\skip2=-5plus\\count0 ");
+        error(10, "\\let\\e\\expandafter\\def\\x{}\\skip0=-\\skip0 " + times(40, "\\e.") + "\\x");
+        error(10, "\\skip0=-\\skip" + times(40, "\\count") + "0 ");
+        error(0, "\\skip0=-\\skip" + times(39, "\\count") + "0 ");
+        error(10, "\\skip0=-5plus" + times(40, "\\count") + "0 ");
+        error(0, "\\skip0=-5plus" + times(39, "\\count") + "0 ");
+        error(10, "\\skip0=-" + times(40, "\\count") + "0 ");
+        error(0, "\\skip0=-" + times(39, "\\count") + "0 ");
+        // NUMBERs in expansions of signs count likewise
+        String compared = "0=0 -\\fi\\a";
+        error(0, "\\def\\a{\\skip0 }\\hskip\\ifnum" + times(38, "\\count") + compared);
+        error(10, "\\def\\a{\\skip0 }\\hskip\\ifnum" + times(39, "\\count") + compared);
+        error(0, "\\def\\a{5 }\\hskip\\ifnum" + times(37, "\\count") + compared);
+        error(10, "\\def\\a{5 }\\hskip\\ifnum" + times(38, "\\count") + compared);
+    }
+
+    /** What GLUEs take that are within each other: n times \e, and \a, which becomes the text. */
+    private static String nested(int n, String text) {
+        return "\\let\\e\\expandafter\\def\\a{" + text + "}";
+    }
+
     /** Where a NUMBER comes, what follows is none of a GLUE. */
     private static void noGlue() {
         kinds("1" + "5" + "00000" + "4", -1, "\\setbox0\\hbox{\\kern1plus2 }");
@@ -480,6 +528,7 @@ public final class ExpansionTest extends Asking {
         numbers();
         glues();
         within();
+        withinGlue();
         noGlue();
         end();
     }
