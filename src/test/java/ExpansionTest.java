@@ -454,31 +454,31 @@ public final class ExpansionTest extends Asking {
     /** Signs ahead of \skip are the GLUE's own, and stand in no NUMBER; those of a NUMBER do. */
     private static void withinGlue() {
         for (String glue : new String[] {"\\skip1=+", "\\hskip", "\\vskip", "\\advance\\skip1by", "\\leaders\\hbox{x}\\vskip"}) {
-            error(0, nested(39, "\\skip0") + glue + times(39, "\\e+") + "\\a");
-            error(10, nested(39, "\\skip0") + glue + times(40, "\\e+") + "\\a");
-            error(0, nested(38, "5 ") + glue + times(38, "\\e+") + "\\a");
-            error(10, nested(39, "5 ") + glue + times(39, "\\e+") + "\\a");
-            error(10, nested(39, "\\tol") + glue + times(39, "\\e+") + "\\a");
+            error(0, nested("\\skip0") + glue + times(39, "\\e+") + "\\a");
+            error(10, nested("\\skip0") + glue + times(40, "\\e+") + "\\a");
+            error(0, nested("5 ") + glue + times(38, "\\e+") + "\\a");
+            error(10, nested("5 ") + glue + times(39, "\\e+") + "\\a");
+            error(10, nested("\\tol") + glue + times(39, "\\e+") + "\\a");
         }
         String signs = "\\skip1=-+" + times(39, "\\e-") + "\\a";
-        register(7, 2, 1, "\\skip0=7plus3minus2ff" + nested(39, "\\skip0 ") + signs);
-        register(3, 3, 1, "\\skip0=7plus3minus2ff" + nested(39, "\\skip0 ") + signs);
-        register(2, 5, 1, "\\skip0=7plus3minus2ff" + nested(39, "\\skip0 ") + signs);
-        register(2, 6, 1, "\\skip0=7plus3minus2ff" + nested(39, "\\skip0 ") + signs);
+        register(7, 2, 1, "\\skip0=7plus3minus2ff" + nested("\\skip0 ") + signs);
+        register(3, 3, 1, "\\skip0=7plus3minus2ff" + nested("\\skip0 ") + signs);
+        register(2, 5, 1, "\\skip0=7plus3minus2ff" + nested("\\skip0 ") + signs);
+        register(2, 6, 1, "\\skip0=7plus3minus2ff" + nested("\\skip0 ") + signs);
         // \let, \def, \skip, 39 or 40 expansions, and those of the parts that \skip takes from no signs
-        steps(43, nested(39, "\\skip0") + signs);
-        error(10, nested(40, "\\skip0") + "\\skip1=+" + times(40, "\\e-") + "\\a");
-        steps(43, nested(40, "\\skip0") + "\\skip1=+" + times(40, "\\e-") + "\\a");
+        steps(43, nested("\\skip0") + signs);
+        error(10, nested("\\skip0") + "\\skip1=+" + times(40, "\\e-") + "\\a");
+        steps(43, nested("\\skip0") + "\\skip1=+" + times(40, "\\e-") + "\\a");
         // behind = nothing is in a NUMBER yet, because BLANKs are looked for there
-        error(0, nested(39, "5 ") + "\\skip1=" + times(39, "\\e-") + "\\a");
-        error(0, nested(39, "5 ") + "\\count1=" + times(39, "\\e-") + "\\a");
+        error(0, nested("5 ") + "\\skip1=" + times(39, "\\e-") + "\\a");
+        error(0, nested("5 ") + "\\count1=" + times(39, "\\e-") + "\\a");
         // a NUMBER ends the run in place of what is within too many, as one that is in no GLUE does
-        steps(42, nested(39, "5 ") + signs);
-        steps(42, nested(39, "5 ") + "\\count1=+" + times(39, "\\e-") + "\\a");
-        error(10, nested(39, "5 ") + "\\count1=+" + times(39, "\\e-") + "\\a");
+        steps(42, nested("5 ") + signs);
+        steps(42, nested("5 ") + "\\count1=+" + times(39, "\\e-") + "\\a");
+        error(10, nested("5 ") + "\\count1=+" + times(39, "\\e-") + "\\a");
         // a second time for one GLUE, and for the next one
-        error(0, nested(39, "\\skip0 ") + signs + "\\skip2=5 ");
-        error(0, nested(39, "\\skip0 ") + signs + "\\skip2=-5plus\\count0 ");
+        error(0, nested("\\skip0 ") + signs + "\\skip2=5 ");
+        error(0, nested("\\skip0 ") + signs + "\\skip2=-5plus\\count0 ");
         error(10, "\\let\\e\\expandafter\\def\\x{}\\skip0=-\\skip0 " + times(40, "\\e.") + "\\x");
         error(10, "\\skip0=-\\skip" + times(40, "\\count") + "0 ");
         error(0, "\\skip0=-\\skip" + times(39, "\\count") + "0 ");
@@ -494,8 +494,8 @@ public final class ExpansionTest extends Asking {
         error(10, "\\def\\a{5 }\\hskip\\ifnum" + times(38, "\\count") + compared);
     }
 
-    /** What GLUEs take that are within each other: n times \e, and \a, which becomes the text. */
-    private static String nested(int n, String text) {
+    /** For \e + \e + .. \a, each expanded within those ahead of it; \a becomes the text. */
+    private static String nested(String text) {
         return "\\let\\e\\expandafter\\def\\a{" + text + "}";
     }
 
